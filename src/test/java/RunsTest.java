@@ -1,0 +1,240 @@
+import java.util.Random;
+
+/** Long runs of calls, some of them wild, on VeneerRows and on the Model: each answer, and all that is told, alike. */
+public final class RunsTest {
+    private static final int RUNS = 4000, CALLS = 400;
+    private static final int[] WILD = {Integer.MIN_VALUE, Integer.MAX_VALUE, -1, 41, 100, 121, 200, 221, 300, 311, 12};
+    private static final Due due = new Due();
+
+    private final Random random;
+    private final VeneerRows x;
+    private final Model m;
+    private final String run;
+
+    private RunsTest(int seed) {
+        random = new Random(seed);
+        int strict = seed % 4 == 0 ? 0 : seed;
+        x = new VeneerRows(strict);
+        m = new Model(strict);
+        run = "run " + seed + ", ";
+    }
+
+    public static void main(String[] args) {
+        for (int seed = 1; seed <= RUNS && due.wrong() < 20; seed++) {
+            RunsTest test = new RunsTest(seed);
+            int built = 20 + test.random.nextInt(140);
+            for (int k = 0; k < CALLS && due.wrong() < 20; k++) {
+                if (k < built || test.oneIn(12)) {
+                    test.build();
+                } else {
+                    test.play();
+                }
+            }
+            test.compareWhatIsTold();
+        }
+        due.end();
+    }
+
+    private boolean oneIn(int n) {
+        return random.nextInt(n) == 0;
+    }
+
+    private int below(int n) {
+        return random.nextInt(n);
+    }
+
+    private int wild() {
+        return oneIn(2) ? WILD[below(WILD.length)] : random.nextInt();
+    }
+
+    private int thing() {
+        return oneIn(40) ? wild() : below(m.count(0) + 2);
+    }
+
+    private int knownClass() {
+        for (int k = 0; k < 20; k++) {
+            int v = 1 + below(40);
+            if (m.meta(v) == 1) {
+                return v;
+            }
+        }
+        return thing();
+    }
+
+    private int knownObject() {
+        for (int k = 0; k < 20; k++) {
+            int v = 1 + below(40);
+            if (m.meta(v) == 2) {
+                return v;
+            }
+        }
+        return thing();
+    }
+
+    private int parent() {
+        return oneIn(3) ? 0 : oneIn(20) ? thing() : knownClass();
+    }
+
+    private int routine() {
+        return oneIn(40) ? wild() : 201 + below(m.count(2) + (oneIn(10) ? 1 : 0) + (m.count(2) == 0 ? 1 : 0));
+    }
+
+    private int name() {
+        return oneIn(60) ? wild() : oneIn(8) ? below(16) : below(6);
+    }
+
+    private int content() {
+        switch (below(5)) {
+            case 0: return 101 + below(m.count(1) + 1);
+            case 1: return thing();
+            default: return routine();
+        }
+    }
+
+    private void is(String call, int got, int want) {
+        due.is(run + call, got, want);
+    }
+
+    private void build() {
+        switch (below(14)) {
+            case 0: {
+                int c = oneIn(30) ? wild() : oneIn(2) ? "aeiouAEIOU".charAt(below(10)) : 31 + below(97);
+                is("letter " + c, x.letter(c), m.letter(c));
+                break;
+            }
+            case 1: if (oneIn(3)) is("text", x.text(), m.text()); break;
+            case 2: if (oneIn(2)) is("routine", x.routine(), m.routine()); break;
+            case 3: case 4: case 5: case 6: act(); break;
+            case 7: {
+                int first = parent(), second = parent(), pool = oneIn(20) ? below(9) - 1 : below(4);
+                if (oneIn(3)) is("group", x.group(first, second, pool), m.group(first, second, pool));
+                break;
+            }
+            case 8: {
+                int first = parent(), second = parent();
+                if (oneIn(2)) is("object", x.object(first, second), m.object(first, second));
+                break;
+            }
+            case 9: case 10: case 11: {
+                int v = thing(), name = name(), i = oneIn(2) ? 0 : below(6) - 1, w = content();
+                is("value " + v + " " + name + " " + i, x.value(v, name, i, w), m.value(v, name, i, w));
+                break;
+            }
+            case 12: {
+                int words = below(13) - 1;
+                if (oneIn(4)) is("array", x.array(words), m.array(words));
+                break;
+            }
+            default: {
+                int v = thing(), text = oneIn(9) ? 0 : oneIn(20) ? wild() : 101 + below(m.count(1) + 1);
+                boolean proper = oneIn(3);
+                is("called", x.called(v, text, proper), m.called(v, text, proper));
+            }
+        }
+    }
+
+    private void act() {
+        int r = routine(), op = oneIn(60) ? wild() : oneIn(4) ? 6 : below(15), a, b;
+        switch (op) {
+            case 0: a = oneIn(3) ? content() : oneIn(3) ? knownClass() : knownObject(); b = 0; break;
+            case 6: a = oneIn(3) ? 12 + below(4) : name(); b = oneIn(4) ? content() : knownObject(); break;
+            case 7: a = name(); b = knownClass(); break;
+            case 14: a = knownClass(); b = 0; break;
+            default: a = name(); b = below(4); break;
+        }
+        is("act " + op, x.act(r, op, a, b), m.act(r, op, a, b));
+    }
+
+    private void play() {
+        switch (below(18)) {
+            case 0: case 1: case 2: case 3: {
+                int to = oneIn(3) ? thing() : knownObject(), name = name(), argument = oneIn(3) ? content() : thing();
+                is("send " + to + " " + name, x.send(to, name, argument), m.send(to, name, argument));
+                break;
+            }
+            case 4: case 5: case 6: {
+                int to = knownClass(), name = 12 + below(4), argument = oneIn(2) ? thing() : knownObject();
+                is("send " + to + " " + name, x.send(to, name, argument), m.send(to, name, argument));
+                break;
+            }
+            case 7: {
+                int group = knownClass(), to = knownObject(), name = name(), argument = thing();
+                is("sendAs", x.sendAs(group, to, name, argument), m.sendAs(group, to, name, argument));
+                break;
+            }
+            case 8: case 9: case 10: {
+                int a = oneIn(20) ? thing() : knownObject(), b = oneIn(9) ? 0 : oneIn(9) ? thing() : knownObject();
+                is("move " + a + " " + b, x.move(a, b), m.move(a, b));
+                break;
+            }
+            case 11: case 12: {
+                int of = oneIn(9) ? thing() : knownObject(), r = routine();
+                is("loop " + of + " " + r, x.loop(of, r), m.loop(of, r));
+                break;
+            }
+            default: playOnOne();
+        }
+        is("acts", x.count(6), m.count(6));
+        is("faults", x.count(4), m.count(4));
+        is("bytes", x.count(5), m.count(5));
+    }
+
+    private void playOnOne() {
+        int v = thing(), name = name(), i = oneIn(30) ? wild() : below(6) - 1, w = content();
+        int array = oneIn(20) ? wild() : 301 + below(m.count(3) + 1), place = oneIn(20) ? wild() : below(44) - 2;
+        switch (below(11)) {
+            case 0: is("read", x.read(v, name, i), m.read(v, name, i)); break;
+            case 1: is("write", x.write(v, name, i, w), m.write(v, name, i, w)); break;
+            case 2: is("tree", x.tree(v, i), m.tree(v, i)); break;
+            case 3: is("meta", x.meta(w), m.meta(w)); break;
+            case 4: is("isOf", x.isOf(v, name), m.isOf(v, name)); break;
+            case 5: is("provides", x.provides(v, name), m.provides(v, name)); break;
+            case 6: is("word", x.word(array, i), m.word(array, i)); break;
+            case 7: is("setWord", x.setWord(array, i, wildWord(w)), m.setWord(array, i, wildWord(w))); break;
+            case 8: is("byteOf", x.byteOf(array, place), m.byteOf(array, place)); break;
+            case 9: is("name", x.name(v, i), m.name(v, i)); break;
+            default: clearAtTimes();
+        }
+    }
+
+    /** A word all of whose bytes differ, most often. */
+    private static int wildWord(int w) {
+        return w * 0x9E3779B1;
+    }
+
+    private void clearAtTimes() {
+        if (oneIn(3)) {
+            compareOut();
+            is("clear", x.clear(), m.clear());
+        }
+    }
+
+    private void compareOut() {
+        for (int i = -1; i <= 400; i++) {
+            is("out " + i, x.out(i), m.out(i));
+        }
+    }
+
+    private void compareWhatIsTold() {
+        compareOut();
+        for (int i = -1; i <= 30; i++) {
+            for (int what = -1; what <= 3; what++) {
+                is("fault " + i + " " + what, x.fault(i, what), m.fault(i, what));
+            }
+        }
+        for (int what = -1; what <= 8; what++) {
+            is("count " + what, x.count(what), m.count(what));
+        }
+        for (int v = 0; v <= 40; v++) {
+            for (int what = 0; what <= 3; what++) {
+                is("tree", x.tree(v, what), m.tree(v, what));
+            }
+            for (int name = 0; name < 12; name++) {
+                for (int i = 0; i < m.provides(v, name); i++) {
+                    is("read", x.read(v, name, i), m.read(v, name, i));
+                }
+                is("provides", x.provides(v, name), m.provides(v, name));
+            }
+        }
+    }
+}
