@@ -190,27 +190,49 @@ public final class VeneerRows {
     }
 
     public int read(int of, int name, int i) {
-        return readValue(of, name, i);
+        Thing asked = thingWithValue(of, name, i);
+        return asked == null ? 0 : asked.rows.at(name, i);
     }
 
     public int write(int of, int name, int i, int v) {
-        return writeValue(of, name, i, v);
+        Thing asked = thingWithValue(of, name, i);
+        if (asked == null) {
+            return 0;
+        }
+        asked.rows.put(name, i, v);
+        return v;
     }
 
     public int move(int a, int b) {
-        return moveTo(a, b);
+        if (meta(a) != META_OBJECT || (b != 0 && meta(b) != META_OBJECT)) {
+            return faults.tell(FAULT_NO_OBJECT, a, b);
+        }
+        if (forest.isInOrAt(b, a)) {
+            return faults.tell(FAULT_WITHIN_ITSELF, a, b);
+        }
+        forest.lift(a);
+        forest.put(a, b);
+        return 1;
     }
 
     public int tree(int of, int what) {
-        return lookInTree(of, what);
+        if (meta(of) != META_OBJECT) {
+            return faults.tell(FAULT_NO_OBJECT, of, 0);
+        }
+        switch (what) {
+            case WHAT_PARENT: return forest.parentOf(of);
+            case WHAT_CHILD: return forest.childOf(of);
+            case WHAT_SIBLING: return forest.siblingOf(of);
+            default: return forest.childrenOf(of);
+        }
     }
 
     public int loop(int of, int routine) {
         startActs();
-        if (metaOf(of) != META_OBJECT) {
+        if (meta(of) != META_OBJECT) {
             return faults.tell(FAULT_NO_OBJECT, of, 0);
         }
-        if (metaOf(routine) != META_ROUTINE) {
+        if (meta(routine) != META_ROUTINE) {
             return faults.tell(FAULT_NO_ROUTINE, of, routine);
         }
         int child = forest.childOf(of);
@@ -229,11 +251,22 @@ public final class VeneerRows {
     }
 
     public int meta(int v) {
-        return metaOf(v);
+        Thing thing = thingAt(v);
+        if (thing != null) {
+            return thing.isClass ? META_CLASS : thing.there ? META_OBJECT : 0;
+        }
+        if (textAt(v) != null) {
+            return META_TEXT;
+        }
+        if (routineAt(v) != null) {
+            return META_ROUTINE;
+        }
+        return arrayAt(v) != null ? META_ARRAY : 0;
     }
 
     public int isOf(int v, int group) {
-        return isObjectOf(v, group) ? 1 : 0;
+        Thing thing = thingAt(v);
+        return thing != null && !thing.isClass && thing.there && thing.line.has(group) ? 1 : 0;
     }
 
     public int provides(int v, int name) {
@@ -242,42 +275,33 @@ public final class VeneerRows {
     }
 
     public int word(int array, int i) {
-        WordArray asked = arrayAt(array);
-        if (asked == null) {
-            return faults.tell(FAULT_NO_ARRAY, array, i);
-        }
-        if (!asked.has(i)) {
-            return faults.tell(FAULT_BEYOND_ARRAY, array, i);
-        }
-        return asked.at(i);
+        WordArray asked = arrayWithWord(array, i, i);
+        return asked == null ? 0 : asked.at(i);
     }
 
     public int setWord(int array, int i, int v) {
-        WordArray asked = arrayAt(array);
+        WordArray asked = arrayWithWord(array, i, i);
         if (asked == null) {
-            return faults.tell(FAULT_NO_ARRAY, array, i);
-        }
-        if (!asked.has(i)) {
-            return faults.tell(FAULT_BEYOND_ARRAY, array, i);
+            return 0;
         }
         asked.put(i, v);
         return v;
     }
 
     public int byteOf(int array, int i) {
-        WordArray asked = arrayAt(array);
-        if (asked == null) {
-            return faults.tell(FAULT_NO_ARRAY, array, i);
-        }
-        // -1 / 4 is 0 in Java, so the place itself must be looked at, too.
-        if (i < 0 || !asked.has(i / 4)) {
-            return faults.tell(FAULT_BEYOND_ARRAY, array, i);
-        }
-        return (asked.at(i / 4) >>> (24 - 8 * (i % 4))) & 255;
+        // Of a place below 0 the word is to be below 0, too: -1 / 4 would be 0.
+        int word = Math.floorDiv(i, 4);
+        WordArray asked = arrayWithWord(array, word, i);
+        return asked == null ? 0 : (asked.at(word) >>> (24 - 8 * Math.floorMod(i, 4))) & 255;
     }
 
     public int name(int v, int article) {
-        sayName(v, article);
+        Thing thing = thingAt(v);
+        if (thing == null) {
+            output.say(v == 0 ? "nothing" : "(none)");
+        } else {
+            sayName(thing, v, article);
+        }
         return output.length;
     }
 
@@ -332,20 +356,6 @@ public final class VeneerRows {
             ? arrays[v - FIRST_ARRAY] : null;
     }
 
-    private int metaOf(int v) {
-        Thing thing = thingAt(v);
-        if (thing != null) {
-            return thing.isClass ? META_CLASS : thing.there ? META_OBJECT : 0;
-        }
-        if (textAt(v) != null) {
-            return META_TEXT;
-        }
-        if (routineAt(v) != null) {
-            return META_ROUTINE;
-        }
-        return arrayAt(v) != null ? META_ARRAY : 0;
-    }
-
     /** The class, or the object that is there, of this number; null for all others. */
     private Thing answeringThing(int v) {
         Thing thing = thingAt(v);
@@ -353,12 +363,7 @@ public final class VeneerRows {
     }
 
     private boolean isNoneOrClass(int v) {
-        return v == 0 || metaOf(v) == META_CLASS;
-    }
-
-    private boolean isObjectOf(int v, int group) {
-        Thing thing = thingAt(v);
-        return thing != null && metaOf(v) == META_OBJECT && thing.line.has(group);
+        return v == 0 || meta(v) == META_CLASS;
     }
 
     // ---- lines and rows
@@ -391,61 +396,29 @@ public final class VeneerRows {
         }
     }
 
-    private int readValue(int of, int name, int i) {
+    /** The thing, if it has value i of this name; else null, and the fault is told. */
+    private Thing thingWithValue(int of, int name, int i) {
         Thing asked = answeringThing(of);
-        int kind = valueFault(asked, name, i);
-        if (asked == null || kind != 0) {
-            return faults.tell(kind, of, name);
-        }
-        return asked.rows.at(name, i);
-    }
-
-    private int writeValue(int of, int name, int i, int v) {
-        Thing asked = answeringThing(of);
-        int kind = valueFault(asked, name, i);
-        if (asked == null || kind != 0) {
-            return faults.tell(kind, of, name);
-        }
-        asked.rows.put(name, i, v);
-        return v;
-    }
-
-    /** The kind of fault that stands against value i of this name; 0, if there is such a value. */
-    private static int valueFault(Thing asked, int name, int i) {
         if (asked == null) {
-            return FAULT_NO_THING;
+            faults.tell(FAULT_NO_THING, of, name);
+            return null;
         }
         int length = asked.rows.lengthOf(name);
-        if (length == 0) {
-            return FAULT_NO_ROW;
+        if (i >= 0 && i < length) {
+            return asked;
         }
-        return i < 0 || i >= length ? FAULT_NO_VALUE : 0;
+        faults.tell(length == 0 ? FAULT_NO_ROW : FAULT_NO_VALUE, of, name);
+        return null;
     }
 
-    // ---- the tree
-
-    private int moveTo(int a, int b) {
-        if (metaOf(a) != META_OBJECT || (b != 0 && metaOf(b) != META_OBJECT)) {
-            return faults.tell(FAULT_NO_OBJECT, a, b);
+    /** The array, if it has that word; else null, and the fault is told with the place that was asked for. */
+    private WordArray arrayWithWord(int array, int word, int place) {
+        WordArray asked = arrayAt(array);
+        if (asked != null && asked.has(word)) {
+            return asked;
         }
-        if (forest.isInOrAt(b, a)) {
-            return faults.tell(FAULT_WITHIN_ITSELF, a, b);
-        }
-        forest.lift(a);
-        forest.put(a, b);
-        return 1;
-    }
-
-    private int lookInTree(int of, int what) {
-        if (metaOf(of) != META_OBJECT) {
-            return faults.tell(FAULT_NO_OBJECT, of, 0);
-        }
-        switch (what) {
-            case WHAT_PARENT: return forest.parentOf(of);
-            case WHAT_CHILD: return forest.childOf(of);
-            case WHAT_SIBLING: return forest.siblingOf(of);
-            default: return forest.childrenOf(of);
-        }
+        faults.tell(asked == null ? FAULT_NO_ARRAY : FAULT_BEYOND_ARRAY, array, place);
+        return null;
     }
 
     // ---- messages; within is how many routines stand open around them
@@ -477,11 +450,11 @@ public final class VeneerRows {
     }
 
     private int sendToAs(int group, int to, int name, int argument, int within) {
-        if (metaOf(to) != META_OBJECT) {
+        if (meta(to) != META_OBJECT) {
             return faults.tell(FAULT_NO_THING, to, name);
         }
         Thing asked = thingAt(group);
-        if (asked == null || !isObjectOf(to, group)) {
+        if (asked == null || isOf(to, group) == 0) {
             return faults.tell(FAULT_NOT_OF, to, name);
         }
         return answerOfRow(asked.rows, to, name, argument, within);
@@ -502,16 +475,11 @@ public final class VeneerRows {
 
     // ---- pools
 
-    private boolean isThereInPool(int group, int v) {
-        Thing owner = thingAt(group);
-        return owner != null && v > group && v <= group + owner.pool && metaOf(v) == META_OBJECT;
-    }
-
     private int freeOnes(int group) {
         Thing owner = thingAt(group);
         int free = 0;
         for (int k = 1; owner != null && k <= owner.pool; k++) {
-            free += isThereInPool(group, group + k) ? 0 : 1;
+            free += meta(group + k) == META_OBJECT ? 0 : 1;
         }
         return free;
     }
@@ -519,11 +487,22 @@ public final class VeneerRows {
     private int leastFree(int group) {
         Thing owner = thingAt(group);
         for (int k = 1; owner != null && k <= owner.pool; k++) {
-            if (!isThereInPool(group, group + k)) {
+            if (meta(group + k) != META_OBJECT) {
                 return group + k;
             }
         }
         return 0;
+    }
+
+    /** The object of the class's pool that is there; for all other numbers null, and the fault is told. */
+    private Thing thereInPool(int group, int number) {
+        Thing owner = thingAt(group);
+        Thing wanted = thingAt(number);
+        if (owner != null && wanted != null && wanted.there && number > group && number <= group + owner.pool) {
+            return wanted;
+        }
+        faults.tell(FAULT_NOT_OF_POOL, group, number);
+        return null;
     }
 
     private int createOne(int group, int argument, int within) {
@@ -539,9 +518,9 @@ public final class VeneerRows {
     }
 
     private int destroyOne(int group, int number, int within) {
-        Thing old = thingAt(number);
-        if (old == null || !isThereInPool(group, number)) {
-            return faults.tell(FAULT_NOT_OF_POOL, group, number);
+        Thing old = thereInPool(group, number);
+        if (old == null) {
+            return 0;
         }
         sendIfProvided(old, number, NAME_AT_DESTRUCTION, 0, within);
         // What was just sent may itself have destroyed it.
@@ -554,9 +533,9 @@ public final class VeneerRows {
     }
 
     private int recreateOne(int group, int number, int within) {
-        Thing old = thingAt(number);
-        if (old == null || !isThereInPool(group, number)) {
-            return faults.tell(FAULT_NOT_OF_POOL, group, number);
+        Thing old = thereInPool(group, number);
+        if (old == null) {
+            return 0;
         }
         sendIfProvided(old, number, NAME_AT_DESTRUCTION, 0, within);
         if (old.there) {
@@ -614,39 +593,34 @@ public final class VeneerRows {
             case OP_ARGUMENT: return argument;
             case OP_SELF: return self;
             case OP_ADD: return result + a;
-            case OP_READ: return readValue(self, a, b);
+            case OP_READ: return read(self, a, b);
             case OP_WRITE:
-                writeValue(self, a, b, result);
+                write(self, a, b, result);
                 return result;
             case OP_SEND: return sendTo(result, a, b, within);
             case OP_SEND_AS: return sendToAs(b, self, a, argument, within);
             case OP_MOVE:
-                moveTo(self, result);
+                move(self, result);
                 return result;
-            case OP_PARENT: return lookInTree(result, WHAT_PARENT);
-            case OP_CHILD: return lookInTree(result, WHAT_CHILD);
-            case OP_SIBLING: return lookInTree(result, WHAT_SIBLING);
+            case OP_PARENT: return tree(result, WHAT_PARENT);
+            case OP_CHILD: return tree(result, WHAT_CHILD);
+            case OP_SIBLING: return tree(result, WHAT_SIBLING);
             case OP_NAME:
-                sayName(result, a);
+                name(result, a);
                 return result;
-            case OP_IS_OF: return isObjectOf(result, a) ? 1 : 0;
+            case OP_IS_OF: return isOf(result, a);
             default: return result;
         }
     }
 
     // ---- names
 
-    private void sayName(int v, int article) {
-        Thing thing = thingAt(v);
-        if (thing == null) {
-            output.say(v == 0 ? "nothing" : "(none)");
-            return;
-        }
+    private void sayName(Thing thing, int number, int article) {
         if (thing.isClass) {
             output.say("class ");
         }
         if (thing.text == null) {
-            output.sayNumber(v);
+            output.sayNumber(number);
             return;
         }
         if (!thing.isClass && !thing.proper) {

@@ -531,7 +531,7 @@ public final class PromiseTest {
     private static void recreate() {
         VeneerRows x = strict();
         int made = routineOf(x, a(1), a(5, 5, 0), a(0, 0), a(13));
-        int ended = routineOf(x, a(1), a(5, 6, 0), a(2), a(13));
+        int ended = routineOf(x, a(1), a(5, 6, 0), a(13), a(2), a(13));
         x.group(0, 0, 2);
         row(x, 1, 1, made);
         row(x, 1, 2, ended);
@@ -545,7 +545,7 @@ public final class PromiseTest {
         x.value(1, 7, 0, 70);
         x.clear();
         due.is("recreate", x.send(1, 15, 2), 1);
-        due.is("recreate: name 2, then name 1", said(x), "(2)nothing");
+        due.is("recreate: name 2, then name 1", said(x), "nothing(2)nothing");
         due.is("recreate: rows, and name 1 with 0", rowOf(x, 2, 5) + "," + rowOf(x, 2, 6) + "," + rowOf(x, 2, 7) + ","
             + rowOf(x, 2, 9), "0 51,60,70,");
         due.is("recreate: there", x.meta(2), 2);
@@ -702,6 +702,16 @@ public final class PromiseTest {
         row(x, 1, 7, textOf(x, "t"));
         due.is("a text", x.send(1, 6, 0), 1);
         due.is("the depth is that of the call", x.send(1, 4, 0), 12);
+        x.move(1, 2);
+        x.write(1, 3, 0, 0);
+        due.is("a loop's routines are within none", x.loop(2, again), 1);
+        due.is("a loop's routines are within none", x.read(1, 3, 0), 12);
+        x.group(0, 0, 0);
+        x.object(3, 0);
+        row(x, 4, 3, 0);
+        row(x, 4, 4, again);
+        row(x, 3, 4, again);
+        due.is("one sent as a class is within none", x.sendAs(3, 4, 4, 0), 12);
     }
 
     private static void actsACall() {
@@ -741,11 +751,19 @@ public final class PromiseTest {
         due.is("25 children, 200 acts, and 14 more", y.loop(1, eight), 39);
         due.is("200 acts", y.count(6), 200);
         due.is("fault 10 tells its self", faults(y), "10/15/0");
+        for (int k = 2; k <= 40; k++) {
+            y.value(k, 3, 0, 0);
+        }
+        due.is("with the result that it has", y.loop(1, routineOf(y, a(3, 1), a(3, 1), a(3, 1), a(3, 1), a(3, 1),
+            a(5, 3, 0))), 39);
+        due.is("the 33rd did its last act", y.read(8, 3, 0), 5);
+        due.is("the 34th was cut off", y.read(7, 3, 0), 0);
+        due.is("those behind it did none", y.read(6, 3, 0), 0);
         due.is("195 acts", y.loop(1, five), 39);
         due.is("195 acts", y.count(6), 195);
         due.is("no acts", y.loop(1, none), 39);
         due.is("no acts", y.count(6), 0);
-        due.is("no more faults", y.count(4), 1);
+        due.is("no more faults", faults(y), "10/15/0 10/7/0");
 
         VeneerRows z = strict();
         // The 200th act of the call is the one that sends to the last child.
@@ -879,6 +897,23 @@ public final class PromiseTest {
         due.is("15 to a sibling", x.move(6, 7), 1);
         due.is("15 to a sibling", x.move(6, 4), 1);
         due.is("15 to a sibling", childrenOf(x, 4), "6 5");
+
+        VeneerRows y = strict();
+        for (int k = 1; k <= 40; k++) {
+            y.object(0, 0);
+        }
+        for (int k = 39; k >= 1; k--) {
+            due.is("15 forty deep", y.move(k, k + 1), 1);
+        }
+        due.is("15 forty deep", y.move(40, 1), 0);
+        due.is("15 forty deep", faults(y), "7/40/1");
+        for (int k = 1; k <= 39; k++) {
+            due.is("15 thirty-nine in one", y.move(k, 40), 1);
+        }
+        due.is("15 thirty-nine in one", y.tree(40, 3), 39);
+        due.is("15 the hindmost of them", y.move(1, 39), 1);
+        due.is("15 the hindmost of them", y.tree(2, 2), 0);
+        due.is("15 the hindmost of them", y.tree(40, 3), 38);
     }
 
     private static void tree() {

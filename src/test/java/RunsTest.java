@@ -1,8 +1,11 @@
 import java.util.Random;
 
-/** Long runs of calls, some of them wild, on VeneerRows and on the Model: each answer, and all that is told, alike. */
+/**
+ * Long runs of calls on VeneerRows and on the Model: each answer, and all that is told, alike. Every other run is wild
+ * (numbers of all kinds), the others build whole stories, in which routines go deep and long, and loops break.
+ */
 public final class RunsTest {
-    private static final int RUNS = 4000, CALLS = 400;
+    private static final int RUNS = 6000, CALLS = 400;
     private static final int[] WILD = {Integer.MIN_VALUE, Integer.MAX_VALUE, -1, 41, 100, 121, 200, 221, 300, 311, 12};
     private static final Due due = new Due();
 
@@ -13,7 +16,7 @@ public final class RunsTest {
 
     private RunsTest(int seed) {
         random = new Random(seed);
-        int strict = seed % 4 == 0 ? 0 : seed;
+        int strict = seed % 7 == 0 ? 0 : seed;
         x = new VeneerRows(strict);
         m = new Model(strict);
         run = "run " + seed + ", ";
@@ -22,18 +25,113 @@ public final class RunsTest {
     public static void main(String[] args) {
         for (int seed = 1; seed <= RUNS && due.wrong() < 20; seed++) {
             RunsTest test = new RunsTest(seed);
-            int built = 20 + test.random.nextInt(140);
-            for (int k = 0; k < CALLS && due.wrong() < 20; k++) {
-                if (k < built || test.oneIn(12)) {
-                    test.build();
-                } else {
-                    test.play();
-                }
+            if (seed % 2 == 0) {
+                test.wildRun();
+            } else {
+                test.story();
             }
             test.compareWhatIsTold();
         }
         due.end();
     }
+
+    private void wildRun() {
+        int built = 20 + below(140);
+        for (int k = 0; k < CALLS && due.wrong() < 20; k++) {
+            if (k < built || oneIn(12)) {
+                build();
+            } else {
+                play();
+            }
+        }
+    }
+
+    // ---- stories
+
+    private void story() {
+        int names = 2 + below(5), classes = 1 + below(4), objects = 4 + below(12);
+        for (int k = 0; k < 6 + below(14); k++) {
+            is("routine", x.routine(), m.routine());
+        }
+        for (int k = 0; k < classes; k++) {
+            int first = m.count(0) == 0 ? 0 : parent(), pool = below(5);
+            is("group", x.group(first, 0, pool), m.group(first, 0, pool));
+            rowsOf(knownClass(), names);
+        }
+        for (int k = 0; k < objects; k++) {
+            int first = parent(), second = parent();
+            is("object", x.object(first, second), m.object(first, second));
+            if (oneIn(2)) {
+                rowsOf(knownObject(), names);
+            }
+        }
+        for (int r = 201; r <= 200 + m.count(2); r++) {
+            writeRoutine(r, names);
+        }
+        int room = knownObject();
+        for (int k = 0; k < 12 + below(30) && due.wrong() < 20; k++) {
+            playStory(room, names);
+        }
+    }
+
+    private void rowsOf(int thing, int names) {
+        for (int name = 0; name < names; name++) {
+            int v = oneIn(8) ? below(50) : 201 + below(m.count(2));
+            if (!oneIn(6)) {
+                is("value", x.value(thing, name, 0, v), m.value(thing, name, 0, v));
+            }
+        }
+    }
+
+    /** Up to three pieces, each of which does something that makes sense in most places. */
+    private void writeRoutine(int r, int names) {
+        for (int k = 0; k < 1 + below(3); k++) {
+            int n = below(names);
+            switch (below(12)) {
+                case 0: add(r, 2, 0, 0, 6, n, below(9)); break;
+                case 1: add(r, 0, knownObject(), 0, 6, n, 0); break;
+                case 2: add(r, 2, 0, 0, 11, 0, 0, 12, 0, 0, 6, n, 0); break;
+                case 3: add(r, 2, 0, 0, 10, 0, 0, 12, 0, 0, 6, n, 0); break;
+                case 4: add(r, 0, 0, 0, 8, 0, 0); break;
+                case 5: add(r, 2, 0, 0, 9, 0, 0, 8, 0, 0); break;
+                case 6: add(r, 1, 0, 0, 8, 0, 0); break;
+                case 7: add(r, 0, knownClass(), 0, 6, 12 + below(4), knownObject()); break;
+                case 8: add(r, 0, knownClass(), 0, 6, 12, n, 6, below(names), 0); break;
+                case 9: add(r, 4, n, 0, 3, 1, 0, 5, n, 1); break;
+                case 10: add(r, 7, n, knownClass()); break;
+                default: add(r, 2, 0, 0, 13, 0, 0); break;
+            }
+        }
+    }
+
+    private void add(int r, int... acts) {
+        for (int k = 0; k + 2 < acts.length; k += 3) {
+            is("act", x.act(r, acts[k], acts[k + 1], acts[k + 2]), m.act(r, acts[k], acts[k + 1], acts[k + 2]));
+        }
+    }
+
+    private void playStory(int room, int names) {
+        for (int k = 0; k < 4; k++) {
+            int a = knownObject(), b = oneIn(5) ? knownObject() : room;
+            if (a != b) {
+                is("move", x.move(a, b), m.move(a, b));
+            }
+        }
+        int to = knownObject(), group = knownClass(), name = below(names), r = 201 + below(m.count(2));
+        switch (below(5)) {
+            case 0: is("loop " + to, x.loop(to, r), m.loop(to, r)); break;
+            case 1: is("loop " + room, x.loop(room, r), m.loop(room, r)); break;
+            case 2: is("send " + group, x.send(group, 12 + name % 4, to), m.send(group, 12 + name % 4, to)); break;
+            case 3: is("sendAs " + to, x.sendAs(group, to, name, 1), m.sendAs(group, to, name, 1)); break;
+            default: is("send " + to, x.send(to, name, room), m.send(to, name, room)); break;
+        }
+        is("acts", x.count(6), m.count(6));
+        is("faults", x.count(4), m.count(4));
+        is("bytes", x.count(5), m.count(5));
+        compareTree();
+    }
+
+    // ---- wild runs
 
     private boolean oneIn(int n) {
         return random.nextInt(n) == 0;
@@ -209,6 +307,15 @@ public final class RunsTest {
         }
     }
 
+    private void compareTree() {
+        for (int v = 1; v <= m.count(0); v++) {
+            is("meta", x.meta(v), m.meta(v));
+            for (int what = 0; what <= 3 && m.meta(v) == 2; what++) {
+                is("tree", x.tree(v, what), m.tree(v, what));
+            }
+        }
+    }
+
     private void compareOut() {
         for (int i = -1; i <= 400; i++) {
             is("out " + i, x.out(i), m.out(i));
@@ -225,10 +332,8 @@ public final class RunsTest {
         for (int what = -1; what <= 8; what++) {
             is("count " + what, x.count(what), m.count(what));
         }
+        compareTree();
         for (int v = 0; v <= 40; v++) {
-            for (int what = 0; what <= 3; what++) {
-                is("tree", x.tree(v, what), m.tree(v, what));
-            }
             for (int name = 0; name < 12; name++) {
                 for (int i = 0; i < m.provides(v, name); i++) {
                     is("read", x.read(v, name, i), m.read(v, name, i));
