@@ -296,7 +296,7 @@ public final class VeneerRows {
     }
 
     public int name(int v, int article) {
-        Thing thing = thingAt(v);
+        Thing thing = answeringThing(v);
         if (thing == null) {
             output.say(v == 0 ? "nothing" : "(none)");
         } else {

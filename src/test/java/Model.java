@@ -413,7 +413,7 @@ final class Model {
         Thing t = thing(v);
         if (v == 0) {
             say("nothing");
-        } else if (t == null) {
+        } else if (meta(v) != 1 && meta(v) != 2) {
             say("(none)");
         } else {
             String body = t.text == null ? "(" + v + ")" : t.text;

@@ -43,6 +43,7 @@ public final class PromiseTest {
         setWord();
         byteOf();
         name();
+        nameOfFree();
         articles();
         out();
         clear();
@@ -586,10 +587,6 @@ public final class PromiseTest {
         x.send(8, 12, 0);
         x.name(9, 1);
         due.is("the name stays", said(x), "z");
-        x.clear();
-        x.send(8, 13, 9);
-        x.name(9, 1);
-        due.is("a thing that is not there has its name", said(x), "z");
     }
 
     // ---- routines
@@ -1149,6 +1146,33 @@ public final class PromiseTest {
         x.clear();
         x.name(3, 0);
         due.is("24 behind what is there", x.name(0, 0), 10);
+    }
+
+    private static void nameOfFree() {
+        VeneerRows x = strict();
+        x.group(0, 0, 2);
+        due.is("24 free", nameOf(x, 2, 0) + nameOf(x, 3, 3), "(none)(none)");
+        x.called(2, textOf(x, "lamp"), false);
+        x.called(3, 101, true);
+        due.is("24 free, with a text", nameOf(x, 2, 1) + nameOf(x, 3, 1), "(none)(none)");
+        // Name 2 is sent ahead of the end: then it still has its name.
+        row(x, 1, 2, routineOf(x, a(2), a(13, 1)));
+        x.send(1, 12, 0);
+        due.is("24 made", nameOf(x, 2, 1) + nameOf(x, 3, 1), "the lamp(none)");
+        x.clear();
+        x.send(1, 13, 2);
+        due.is("24 at its end", said(x), "the lamp");
+        due.is("24 free again", nameOf(x, 2, 1), "(none)");
+        x.object(0, 0);
+        row(x, 4, 5, routineOf(x, a(1), a(13, 2), a(3, 7)));
+        x.clear();
+        due.is("act 13 of a free one", x.send(4, 5, 2), 9);
+        due.is("act 13 of a free one", said(x), "(none)");
+        x.send(1, 12, 0);
+        x.clear();
+        x.send(4, 5, 2);
+        due.is("act 13 of one made again", said(x), "a lamp");
+        due.is("24 free: no fault", x.count(4), 0);
     }
 
     private static void articles() {
