@@ -1,10 +1,5 @@
 /** Each promise of the document: ordinary inputs, the edges that it names, wrong inputs. */
-public final class PromiseTest {
-    private static final int MIN = Integer.MIN_VALUE, MAX = Integer.MAX_VALUE;
-    private static final int NONE = VeneerRows.NONE, UNKNOWN = VeneerRows.UNKNOWN;
-    private static final int OUTSIDE = VeneerRows.OUTSIDE, ROOM = VeneerRows.ROOM;
-    private static final Due due = new Due();
-
+public final class PromiseTest extends Story {
     public static void main(String[] args) {
         newObject();
         letter();
@@ -50,75 +45,6 @@ public final class PromiseTest {
         fault();
         count();
         due.end();
-    }
-
-    // ---- helpers
-
-    private static VeneerRows strict() {
-        return new VeneerRows(1);
-    }
-
-    private static String said(VeneerRows x) {
-        StringBuilder s = new StringBuilder();
-        for (int i = 0; x.out(i) != NONE; i++) {
-            s.append((char) x.out(i));
-        }
-        return s.toString();
-    }
-
-    /** The faults told, each as kind/number/second. */
-    private static String faults(VeneerRows x) {
-        StringBuilder s = new StringBuilder();
-        for (int i = 0; i < x.count(4); i++) {
-            s.append(i == 0 ? "" : " ").append(x.fault(i, 0)).append('/').append(x.fault(i, 1)).append('/')
-                .append(x.fault(i, 2));
-        }
-        return s.toString();
-    }
-
-    private static int textOf(VeneerRows x, String s) {
-        for (int i = 0; i < s.length(); i++) {
-            x.letter(s.charAt(i));
-        }
-        return x.text();
-    }
-
-    /** A routine of acts {op, a, b}. */
-    private static int routineOf(VeneerRows x, int[]... acts) {
-        int r = x.routine();
-        for (int[] a : acts) {
-            x.act(r, a[0], a.length > 1 ? a[1] : 0, a.length > 2 ? a[2] : 0);
-        }
-        return r;
-    }
-
-    private static int[] a(int... act) {
-        return act;
-    }
-
-    private static void row(VeneerRows x, int thing, int name, int... values) {
-        for (int i = 0; i < values.length; i++) {
-            x.value(thing, name, i, values[i]);
-        }
-    }
-
-    private static String rowOf(VeneerRows x, int thing, int name) {
-        StringBuilder s = new StringBuilder();
-        for (int i = 0; i < x.provides(thing, name); i++) {
-            s.append(i == 0 ? "" : " ").append(x.read(thing, name, i));
-        }
-        return s.toString();
-    }
-
-    private static String childrenOf(VeneerRows x, int thing) {
-        StringBuilder s = new StringBuilder();
-        int many = x.tree(thing, 3);
-        int child = x.tree(thing, 1);
-        for (int k = 0; k < many; k++) {
-            s.append(k == 0 ? "" : " ").append(child);
-            child = x.tree(child, 2);
-        }
-        return s.toString();
     }
 
     // ---- promise 1
@@ -1176,21 +1102,21 @@ public final class PromiseTest {
     }
 
     private static void articles() {
-        VeneerRows x = strict();
-        x.object(0, 0);
         String[] texts = {"lamp", "egg", "Apple", "x", "", "aA", "i", "Io", "o", "Ox", "u", "Urn", "E", " a", "yew"};
         String[] twos = {"a lamp", "an egg", "an Apple", "a x", "a ", "an aA", "an i", "an Io", "an o", "an Ox", "an u",
             "an Urn", "an E", "a  a", "a yew"};
         for (int k = 0; k < texts.length; k++) {
+            VeneerRows x = strict();
+            x.object(0, 0);
             x.called(1, textOf(x, texts[k]), false);
             due.is("24 article 2", nameOf(x, 1, 2), twos[k]);
             due.is("24 article 1", nameOf(x, 1, 1), "the " + texts[k]);
             due.is("24 article 3", nameOf(x, 1, 3), "The " + texts[k]);
             due.is("24 article 0", nameOf(x, 1, 0), texts[k]);
             due.is("24 others", nameOf(x, 1, 4) + nameOf(x, 1, -1), texts[k] + texts[k]);
+            x.called(1, 101, true);
+            due.is("24 proper", nameOf(x, 1, 1) + nameOf(x, 1, 2) + nameOf(x, 1, 3), texts[k] + texts[k] + texts[k]);
         }
-        x.called(1, 102, true);
-        due.is("24 proper", nameOf(x, 1, 1) + nameOf(x, 1, 2) + nameOf(x, 1, 3), "eggeggegg");
     }
 
     // ---- promises 25 to 28

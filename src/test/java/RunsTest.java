@@ -5,7 +5,9 @@ import java.util.Random;
  * (numbers of all kinds), the others build whole stories, in which routines go deep and long, and loops break.
  */
 public final class RunsTest {
-    private static final int RUNS = 6000, CALLS = 400;
+    private static final int RUNS = 20000;
+    /** An object is promised to answer so many calls; the last part of them is for what is told. */
+    private static final int CALLS = 512, PLAYED = 360;
     private static final int[] WILD = {Integer.MIN_VALUE, Integer.MAX_VALUE, -1, 41, 100, 121, 200, 221, 300, 311, 12};
     private static final Due due = new Due();
 
@@ -13,6 +15,7 @@ public final class RunsTest {
     private final VeneerRows x;
     private final Model m;
     private final String run;
+    private int calls;
 
     private RunsTest(int seed) {
         random = new Random(seed);
@@ -35,10 +38,14 @@ public final class RunsTest {
         due.end();
     }
 
+    private boolean goesOn(int most) {
+        return calls < most && due.wrong() < 20;
+    }
+
     private void wildRun() {
         int built = 20 + below(140);
-        for (int k = 0; k < CALLS && due.wrong() < 20; k++) {
-            if (k < built || oneIn(12)) {
+        while (goesOn(PLAYED)) {
+            if (calls < built || oneIn(12)) {
                 build();
             } else {
                 play();
@@ -69,7 +76,7 @@ public final class RunsTest {
             writeRoutine(r, names);
         }
         int room = knownObject();
-        for (int k = 0; k < 12 + below(30) && due.wrong() < 20; k++) {
+        while (goesOn(PLAYED)) {
             playStory(room, names);
         }
     }
@@ -126,9 +133,8 @@ public final class RunsTest {
             default: is("send " + to, x.send(to, name, room), m.send(to, name, room)); break;
         }
         is("acts", x.count(6), m.count(6));
-        is("faults", x.count(4), m.count(4));
-        is("bytes", x.count(5), m.count(5));
-        compareTree();
+        compareOneCount();
+        compareTree(1 + below(m.count(0)));
     }
 
     // ---- wild runs
@@ -189,8 +195,12 @@ public final class RunsTest {
         }
     }
 
+    /** Each is one call of the object. */
     private void is(String call, int got, int want) {
-        due.is(run + call, got, want);
+        calls++;
+        if (calls <= CALLS) {
+            due.is(run + call, got, want);
+        }
     }
 
     private void build() {
@@ -272,9 +282,7 @@ public final class RunsTest {
             }
             default: playOnOne();
         }
-        is("acts", x.count(6), m.count(6));
-        is("faults", x.count(4), m.count(4));
-        is("bytes", x.count(5), m.count(5));
+        compareOneCount();
     }
 
     private void playOnOne() {
@@ -301,44 +309,73 @@ public final class RunsTest {
     }
 
     private void clearAtTimes() {
-        if (oneIn(3)) {
-            compareOut();
+        if (oneIn(9)) {
             is("clear", x.clear(), m.clear());
         }
     }
 
-    private void compareTree() {
-        for (int v = 1; v <= m.count(0); v++) {
-            is("meta", x.meta(v), m.meta(v));
-            for (int what = 0; what <= 3 && m.meta(v) == 2; what++) {
-                is("tree", x.tree(v, what), m.tree(v, what));
-            }
+    private void compareOneCount() {
+        int what = 4 + below(3);
+        is("count " + what, x.count(what), m.count(what));
+    }
+
+    private void compareTree(int v) {
+        is("meta", x.meta(v), m.meta(v));
+        for (int what = 0; what <= 3 && m.meta(v) == 2; what++) {
+            is("tree", x.tree(v, what), m.tree(v, what));
         }
     }
 
     private void compareOut() {
-        for (int i = -1; i <= 400; i++) {
+        for (int i = m.count(5); i >= -1 && goesOn(CALLS); i--) {
             is("out " + i, x.out(i), m.out(i));
         }
     }
 
-    private void compareWhatIsTold() {
-        compareOut();
-        for (int i = -1; i <= 30; i++) {
+    private void compareFaults() {
+        for (int i = m.count(4); i >= -1 && goesOn(CALLS); i--) {
             for (int what = -1; what <= 3; what++) {
                 is("fault " + i + " " + what, x.fault(i, what), m.fault(i, what));
             }
         }
+    }
+
+    private void compareCounts() {
         for (int what = -1; what <= 8; what++) {
             is("count " + what, x.count(what), m.count(what));
         }
-        compareTree();
-        for (int v = 0; v <= 40; v++) {
+    }
+
+    private void compareTrees() {
+        for (int v = m.count(0); v >= 1 && goesOn(CALLS); v--) {
+            compareTree(v);
+        }
+    }
+
+    /** Begins anywhere: there are calls left for a part of them. */
+    private void compareRows() {
+        int things = m.count(0) + 1, from = below(things);
+        for (int k = 0; k < things && goesOn(CALLS); k++) {
+            int v = (from + k) % things;
             for (int name = 0; name < 12; name++) {
+                is("provides", x.provides(v, name), m.provides(v, name));
                 for (int i = 0; i < m.provides(v, name); i++) {
                     is("read", x.read(v, name, i), m.read(v, name, i));
                 }
-                is("provides", x.provides(v, name), m.provides(v, name));
+            }
+        }
+    }
+
+    /** A part at a time, another one first in each run, as long as there are calls left. */
+    private void compareWhatIsTold() {
+        int from = below(5);
+        for (int k = 0; k < 5 && goesOn(CALLS); k++) {
+            switch ((from + k) % 5) {
+                case 0: compareOut(); break;
+                case 1: compareFaults(); break;
+                case 2: compareCounts(); break;
+                case 3: compareTrees(); break;
+                default: compareRows(); break;
             }
         }
     }
