@@ -1,6 +1,8 @@
 import java.io.IOException;
 import java.nio.file.Files;
 import java.nio.file.Path;
+import java.util.HashSet;
+import java.util.Set;
 import java.util.function.Consumer;
 import java.util.function.ToIntFunction;
 
@@ -13,6 +15,7 @@ abstract class Edges extends Story {
     private static final String DOCUMENT = document();
     private static String sentence = "";
     private static int sentences;
+    private static final Set<Integer> promises = new HashSet<>();
 
     private static String document() {
         try {
@@ -26,9 +29,10 @@ abstract class Edges extends Story {
         return s.replaceAll("\\s+", " ");
     }
 
-    static void sentence(String promise, String words) {
-        sentence = promise + ", '" + words + "': ";
+    static void sentence(int promise, String words) {
+        sentence = "Promise " + promise + ", '" + words + "': ";
         sentences++;
+        promises.add(promise);
         is("stands in the document", DOCUMENT.contains(plain(words)) ? 1 : 0, 1);
     }
 
@@ -40,7 +44,11 @@ abstract class Edges extends Story {
         due.is(sentence + call, got, want);
     }
 
-    static void end() {
+    /** Ends the tests of these promises, each of which must have had one. */
+    static void end(int first, int last) {
+        for (int promise = first; promise <= last; promise++) {
+            due.is("sentences of promise " + promise, promises.contains(promise) ? 1 : 0, 1);
+        }
         System.out.println(sentences + " sentences");
         due.end();
     }

@@ -8,7 +8,9 @@ public final class EdgesBuiltTest extends Edges {
         letterOrder();
         textOfDraft();
         emptyText();
+        textNumbers();
         textFull();
+        routineNumbers();
         routineFull();
         newRoutine();
         actOfWhat();
@@ -48,7 +50,7 @@ public final class EdgesBuiltTest extends Edges {
         calledText();
         calledNone();
         calledProper();
-        end();
+        end(1, 10);
     }
 
     private static String nameOf(VeneerRows x, int v, int article) {
@@ -60,7 +62,7 @@ public final class EdgesBuiltTest extends Edges {
     // ---- promise 1
 
     private static void strictIfNot0() {
-        sentence("Promise 1", "STRICT, if strict is not 0");
+        sentence(1, "STRICT, if strict is not 0");
         for (int strict : new int[] {1, -1, 2, 256, 1 << 16, MIN, MAX}) {
             VeneerRows x = new VeneerRows(strict);
             x.send(0, 0, 0);
@@ -72,7 +74,7 @@ public final class EdgesBuiltTest extends Edges {
     }
 
     private static void nothingAtFirst() {
-        sentence("Promise 1", "there is nothing");
+        sentence(1, "there is nothing");
         for (int strict = 0; strict <= 1; strict++) {
             VeneerRows x = new VeneerRows(strict);
             for (int what = 0; what <= 7; what++) {
@@ -90,7 +92,7 @@ public final class EdgesBuiltTest extends Edges {
     // ---- promise 2
 
     private static void letterBytes() {
-        sentence("Promise 2", "A byte 32 .. 126 comes behind THE DRAFT");
+        sentence(2, "A byte 32 .. 126 comes behind THE DRAFT");
         for (int c : new int[] {31, 127, 0, -1, 128, 255, 256 + 'a', -256 + 'a', MIN, MAX}) {
             refused("letter(" + c + ")", OUTSIDE, x -> x.letter(c));
         }
@@ -105,7 +107,7 @@ public final class EdgesBuiltTest extends Edges {
     }
 
     private static void letterFull() {
-        sentence("Promise 2", "THE DRAFT (20 at most): how many it has");
+        sentence(2, "THE DRAFT (20 at most): how many it has");
         VeneerRows x = strict();
         for (int k = 1; k <= 20; k++) {
             is("letter " + k, x.letter('a' + k), k);
@@ -124,7 +126,7 @@ public final class EdgesBuiltTest extends Edges {
     }
 
     private static void letterOrder() {
-        sentence("Promise 2", "how many it has. OUTSIDE; ROOM.");
+        sentence(2, "how many it has. OUTSIDE; ROOM.");
         for (int c : new int[] {31, 127}) {
             refused("letter(" + c + ") with 20", OUTSIDE, x -> {
                 house(x);
@@ -136,7 +138,7 @@ public final class EdgesBuiltTest extends Edges {
     // ---- promise 3
 
     private static void textOfDraft() {
-        sentence("Promise 3", "THE DRAFT, empty then, is a TEXT: its number.");
+        sentence(3, "THE DRAFT, empty then, is a TEXT: its number.");
         VeneerRows x = strict();
         x.object(0, 0);
         letters(x, "ab");
@@ -151,7 +153,7 @@ public final class EdgesBuiltTest extends Edges {
     }
 
     private static void emptyText() {
-        sentence("Promise 3", "THE DRAFT, empty then, is a TEXT");
+        sentence(3, "THE DRAFT, empty then, is a TEXT");
         VeneerRows x = strict();
         x.object(0, 0);
         is("text() of an empty one", x.text(), 101);
@@ -164,19 +166,31 @@ public final class EdgesBuiltTest extends Edges {
         is("sent", x.send(1, 3, 0), 1);
     }
 
-    private static void textFull() {
-        sentence("Promise 3", "ROOM (THE DRAFT stays).");
+    private static void textNumbers() {
+        sentence(3, "TEXTS have 101 .. 120");
         VeneerRows x = strict();
+        is("meta(101) ahead", x.meta(101), 0);
         for (int k = 101; k <= 120; k++) {
             is("text()", x.text(), k);
+            is("meta(" + k + ")", x.meta(k), 3);
+            is("meta of the next", x.meta(k + 1), 0);
+        }
+        is("the 21st", x.text(), ROOM);
+        is("meta(100)", x.meta(100), 0);
+        is("meta(121)", x.meta(121), 0);
+    }
+
+    private static void textFull() {
+        sentence(3, "ROOM (THE DRAFT stays).");
+        VeneerRows x = strict();
+        for (int k = 101; k <= 120; k++) {
+            x.text();
         }
         letters(x, "abc");
         is("the 21st", x.text(), ROOM);
         is("count(1)", x.count(1), 20);
         is("count(7)", x.count(7), 3);
         is("letter(100)", x.letter('d'), 4);
-        is("meta(120)", x.meta(120), 3);
-        is("meta(121)", x.meta(121), 0);
         refused("text() with 20", ROOM, y -> {
             y.object(0, 0);
             for (int k = 0; k < 20; k++) {
@@ -188,16 +202,28 @@ public final class EdgesBuiltTest extends Edges {
 
     // ---- promise 4
 
-    private static void routineFull() {
-        sentence("Promise 4", "A ROUTINE: its number. ROOM.");
+    private static void routineNumbers() {
+        sentence(4, "ROUTINES 201 .. 220");
         VeneerRows x = strict();
+        is("meta(201) ahead", x.meta(201), 0);
         for (int k = 201; k <= 220; k++) {
             is("routine()", x.routine(), k);
+            is("meta(" + k + ")", x.meta(k), 4);
+            is("meta of the next", x.meta(k + 1), 0);
+        }
+        is("the 21st", x.routine(), ROOM);
+        is("meta(200)", x.meta(200), 0);
+        is("meta(221)", x.meta(221), 0);
+    }
+
+    private static void routineFull() {
+        sentence(4, "A ROUTINE: its number. ROOM.");
+        VeneerRows x = strict();
+        for (int k = 201; k <= 220; k++) {
+            x.routine();
         }
         is("the 21st", x.routine(), ROOM);
         is("count(2)", x.count(2), 20);
-        is("meta(220)", x.meta(220), 4);
-        is("meta(221)", x.meta(221), 0);
         is("act(220, ..)", x.act(220, 0, 0, 0), 1);
         is("act(221, ..)", x.act(221, 0, 0, 0), UNKNOWN);
         refused("routine() with 20", ROOM, y -> {
@@ -209,7 +235,7 @@ public final class EdgesBuiltTest extends Edges {
     }
 
     private static void newRoutine() {
-        sentence("Terms 2", "RUN, its RESULT is 0 at first");
+        sentence(4, "RUN, its RESULT is 0 at first");
         VeneerRows x = strict();
         x.object(0, 0);
         x.value(1, 3, 0, x.routine());
@@ -223,7 +249,7 @@ public final class EdgesBuiltTest extends Edges {
     // ---- promise 5
 
     private static void actOfWhat() {
-        sentence("Promise 5", "An ACT 0 .. 14 behind a ROUTINE's others: how many. UNKNOWN");
+        sentence(5, "An ACT 0 .. 14 behind a ROUTINE's others: how many. UNKNOWN");
         for (int r : new int[] {200, 203, 220, 221, 0, 1, 5, -1, 101, 301, MIN, MAX}) {
             refused("act(" + r + ", 0, 1, 1)", UNKNOWN, x -> x.act(r, 0, 1, 1));
         }
@@ -237,7 +263,7 @@ public final class EdgesBuiltTest extends Edges {
     }
 
     private static void actKinds() {
-        sentence("Promise 5", "An ACT 0 .. 14");
+        sentence(5, "An ACT 0 .. 14");
         for (int op : new int[] {-1, 15, 16, -15, 256, MIN, MAX}) {
             refused("act(201, " + op + ", 1, 1)", OUTSIDE, x -> x.act(201, op, 1, 1));
         }
@@ -247,7 +273,7 @@ public final class EdgesBuiltTest extends Edges {
     }
 
     private static void actFull() {
-        sentence("Terms 2", "A ROUTINE has up to 8 ACTS");
+        sentence(5, "A ROUTINE has up to 8 ACTS");
         VeneerRows x = strict();
         x.object(0, 0);
         x.value(1, 3, 0, x.routine());
@@ -267,7 +293,7 @@ public final class EdgesBuiltTest extends Edges {
     }
 
     private static void actOrder() {
-        sentence("Promise 5", "how many. UNKNOWN; OUTSIDE; ROOM.");
+        sentence(5, "how many. UNKNOWN; OUTSIDE; ROOM.");
         VeneerRows x = strict();
         is("neither ROUTINE nor ACT", x.act(201, 15, 0, 0), UNKNOWN);
         x.routine();
@@ -281,7 +307,7 @@ public final class EdgesBuiltTest extends Edges {
     }
 
     private static void actNumbers() {
-        sentence("Terms 2", "each with numbers a, b");
+        sentence(5, "each with numbers a, b");
         for (int v : new int[] {MIN, -1, 0, MAX}) {
             VeneerRows x = strict();
             x.object(0, 0);
@@ -299,7 +325,7 @@ public final class EdgesBuiltTest extends Edges {
     private static final int[] NO_CLASSES = {7, 8, 3, 4, 5, 6, 40, 41, -1, 100, 101, 201, 301, MIN, MAX};
 
     private static void groupOfWhat() {
-        sentence("Terms 1", "A CLASS has up to two PARENTS (CLASSES that came before).");
+        sentence(6, "A CLASS has up to two PARENTS (CLASSES that came before).");
         for (int v : NO_CLASSES) {
             refused("group(" + v + ", 0, 0)", UNKNOWN, x -> x.group(v, 0, 0));
             refused("group(0, " + v + ", 0)", UNKNOWN, x -> x.group(0, v, 0));
@@ -316,7 +342,7 @@ public final class EdgesBuiltTest extends Edges {
     }
 
     private static void groupPool() {
-        sentence("Promise 6", "with a POOL of 0 .. 6: its number.");
+        sentence(6, "with a POOL of 0 .. 6: its number.");
         for (int pool : new int[] {-1, 7, -7, 8, 256, MIN, MAX, MAX - 6}) {
             refused("group(0, 0, " + pool + ")", OUTSIDE, x -> x.group(0, 0, pool));
         }
@@ -329,7 +355,7 @@ public final class EdgesBuiltTest extends Edges {
     }
 
     private static void groupFull() {
-        sentence("Terms 1", "THINGS have numbers 1, 2, .. as they come, 40 at most: CLASSES and OBJECTS.");
+        sentence(6, "THINGS have numbers 1, 2, .. as they come, 40 at most: CLASSES and OBJECTS.");
         VeneerRows x = strict();
         for (int k = 1; k <= 40; k++) {
             is("group(0, 0, 0)", x.group(0, 0, 0), k);
@@ -348,7 +374,7 @@ public final class EdgesBuiltTest extends Edges {
     }
 
     private static void groupFullForPool() {
-        sentence("Promise 6", "ROOM: also for the POOL.");
+        sentence(6, "ROOM: also for the POOL.");
         for (int pool = 0; pool <= 6; pool++) {
             VeneerRows x = strict();
             objects(x, 40 - pool);
@@ -373,7 +399,7 @@ public final class EdgesBuiltTest extends Edges {
     }
 
     private static void groupOrder() {
-        sentence("Terms 4", "UNKNOWN (a number that is none of those wanted), OUTSIDE (another number is not as told), "
+        sentence(6, "UNKNOWN (a number that is none of those wanted), OUTSIDE (another number is not as told), "
             + "ROOM, the first of these.");
         VeneerRows x = strict();
         objects(x, 40);
@@ -390,7 +416,7 @@ public final class EdgesBuiltTest extends Edges {
     }
 
     private static void groupSameTwice() {
-        sentence("Promise 6", "A CLASS of PARENTS (0: none; the same twice counts once)");
+        sentence(6, "A CLASS of PARENTS (0: none; the same twice counts once)");
         VeneerRows x = strict();
         x.group(0, 0, 0);
         row(x, 1, 0, 1);
@@ -401,7 +427,7 @@ public final class EdgesBuiltTest extends Edges {
     }
 
     private static void groupNoParents() {
-        sentence("Promise 6", "A CLASS of PARENTS (0: none");
+        sentence(6, "A CLASS of PARENTS (0: none");
         VeneerRows x = strict();
         x.group(0, 0, 0);
         row(x, 1, 0, 1);
@@ -416,7 +442,7 @@ public final class EdgesBuiltTest extends Edges {
     }
 
     private static void poolBehindClass() {
-        sentence("Terms 1", "A CLASS comes with n OBJECTS of it alone (right behind it, by number), FREE, not THERE. "
+        sentence(6, "A CLASS comes with n OBJECTS of it alone (right behind it, by number), FREE, not THERE. "
             + "Others are THERE always.");
         VeneerRows x = strict();
         is("with six", x.group(0, 0, 6), 1);
@@ -439,7 +465,7 @@ public final class EdgesBuiltTest extends Edges {
     // ---- promise 7
 
     private static void objectOfWhat() {
-        sentence("Promise 7", "An OBJECT of CLASSES (likewise): its number. UNKNOWN; ROOM.");
+        sentence(7, "An OBJECT of CLASSES (likewise): its number. UNKNOWN; ROOM.");
         for (int v : NO_CLASSES) {
             refused("object(" + v + ", 0)", UNKNOWN, x -> x.object(v, 0));
             refused("object(0, " + v + ")", UNKNOWN, x -> x.object(0, v));
@@ -456,7 +482,7 @@ public final class EdgesBuiltTest extends Edges {
     }
 
     private static void objectFull() {
-        sentence("Terms 1", "THINGS have numbers 1, 2, .. as they come, 40 at most");
+        sentence(7, "THINGS have numbers 1, 2, .. as they come, 40 at most");
         VeneerRows x = strict();
         for (int k = 1; k <= 40; k++) {
             is("object(0, 0)", x.object(0, 0), k);
@@ -470,7 +496,7 @@ public final class EdgesBuiltTest extends Edges {
     }
 
     private static void objectOrder() {
-        sentence("Promise 7", "its number. UNKNOWN; ROOM.");
+        sentence(7, "its number. UNKNOWN; ROOM.");
         VeneerRows x = strict();
         x.group(0, 0, 6);
         objects(x, 33);
@@ -482,7 +508,7 @@ public final class EdgesBuiltTest extends Edges {
     }
 
     private static void objectSameTwice() {
-        sentence("Promise 7", "An OBJECT of CLASSES (likewise)");
+        sentence(7, "An OBJECT of CLASSES (likewise)");
         VeneerRows x = strict();
         x.group(0, 0, 0);
         row(x, 1, 0, 1);
@@ -500,7 +526,7 @@ public final class EdgesBuiltTest extends Edges {
     }
 
     private static void lineOfClass() {
-        sentence("Terms 1", "Its LINE is: itself, then its first PARENT's LINE, then its second one's, but each CLASS "
+        sentence(6, "Its LINE is: itself, then its first PARENT's LINE, then its second one's, but each CLASS "
             + "just where it first stands.");
         VeneerRows x = strict();
         x.group(0, 0, 0);
@@ -532,7 +558,7 @@ public final class EdgesBuiltTest extends Edges {
     }
 
     private static void lineOfObject() {
-        sentence("Terms 1", "AN OBJECT has up to two CLASSES; its LINE is those of these, likewise.");
+        sentence(7, "AN OBJECT has up to two CLASSES; its LINE is those of these, likewise.");
         VeneerRows x = strict();
         x.group(0, 0, 0);
         x.group(1, 0, 0);
@@ -547,7 +573,7 @@ public final class EdgesBuiltTest extends Edges {
     }
 
     private static void rowOfFirstClass() {
-        sentence("Terms 1", "for each NAME that of the first CLASS in its LINE that has one");
+        sentence(7, "for each NAME that of the first CLASS in its LINE that has one");
         VeneerRows x = strict();
         x.group(0, 0, 0);
         x.group(1, 0, 0);
@@ -569,7 +595,7 @@ public final class EdgesBuiltTest extends Edges {
     }
 
     private static void rowOfName0() {
-        sentence("Terms 1", "but for NAME 0 all VALUES of all CLASSES in its LINE, one behind the other, the first 4.");
+        sentence(7, "but for NAME 0 all VALUES of all CLASSES in its LINE, one behind the other, the first 4.");
         for (int ahead = 0; ahead <= 4; ahead++) {
             VeneerRows x = strict();
             x.group(0, 0, 0);
@@ -600,7 +626,7 @@ public final class EdgesBuiltTest extends Edges {
     }
 
     private static void rowsLater() {
-        sentence("Terms 1", "(What its CLASSES get later changes nothing of it.)");
+        sentence(7, "(What its CLASSES get later changes nothing of it.)");
         VeneerRows x = strict();
         x.group(0, 0, 0);
         row(x, 1, 0, 1);
@@ -622,7 +648,7 @@ public final class EdgesBuiltTest extends Edges {
     // ---- promise 8
 
     private static void valueOfWhat() {
-        sentence("Promise 8", "VALUE i (0 .. 3) of a CLASS's, or an OBJECT's (THERE or not) ROW");
+        sentence(8, "VALUE i (0 .. 3) of a CLASS's, or an OBJECT's (THERE or not) ROW");
         for (int v : new int[] {0, 7, 40, 41, -1, 101, 201, 301, MIN, MAX}) {
             refused("value(" + v + ", 3, 0, 1)", UNKNOWN, x -> x.value(v, 3, 0, 1));
         }
@@ -639,7 +665,7 @@ public final class EdgesBuiltTest extends Edges {
     }
 
     private static void valueNames() {
-        sentence("Promise 8", "ROW of a NAME 0 .. 11 is v");
+        sentence(8, "ROW of a NAME 0 .. 11 is v");
         for (int name : new int[] {-1, 12, 13, 15, 16, -12, MIN, MAX}) {
             refused("value(1, " + name + ", 0, 1)", OUTSIDE, x -> x.value(1, name, 0, 1));
             refused("value(5, " + name + ", 0, 1)", OUTSIDE, x -> x.value(5, name, 0, 1));
@@ -658,7 +684,7 @@ public final class EdgesBuiltTest extends Edges {
     }
 
     private static void valuePlaces() {
-        sentence("Promise 8", "VALUE i (0 .. 3)");
+        sentence(8, "VALUE i (0 .. 3)");
         // NAME 4 of class 2 and of object 5 has four values.
         for (int i : new int[] {-1, 4, 5, -4, MIN, MAX}) {
             refused("value(2, 4, " + i + ", 1)", OUTSIDE, x -> x.value(2, 4, i, 1));
@@ -673,7 +699,7 @@ public final class EdgesBuiltTest extends Edges {
     }
 
     private static void valueGrows() {
-        sentence("Promise 8", "i is at most how many there are (then there is one more): how many.");
+        sentence(8, "i is at most how many there are (then there is one more): how many.");
         for (int many = 0; many <= 3; many++) {
             for (int i = many + 1; i <= 4; i++) {
                 int had = many;
@@ -700,7 +726,7 @@ public final class EdgesBuiltTest extends Edges {
     }
 
     private static void valueFull() {
-        sentence("Terms 1", "A THING may have a ROW of 1 to 4 VALUES (any ints) for each NAME 0 .. 11.");
+        sentence(8, "A THING may have a ROW of 1 to 4 VALUES (any ints) for each NAME 0 .. 11.");
         VeneerRows x = strict();
         x.object(0, 0);
         for (int name = 0; name <= 11; name++) {
@@ -719,7 +745,7 @@ public final class EdgesBuiltTest extends Edges {
     }
 
     private static void valueAnyInt() {
-        sentence("Terms 1", "VALUES (any ints)");
+        sentence(8, "VALUES (any ints)");
         VeneerRows x = strict();
         x.group(0, 0, 0);
         row(x, 1, 3, MIN, -1, 0, MAX);
@@ -733,7 +759,7 @@ public final class EdgesBuiltTest extends Edges {
     }
 
     private static void valueOrder() {
-        sentence("Promise 8", "how many. UNKNOWN; OUTSIDE.");
+        sentence(8, "how many. UNKNOWN; OUTSIDE.");
         VeneerRows x = strict();
         x.object(0, 0);
         is("thing and name", x.value(2, 12, 0, 1), UNKNOWN);
@@ -745,7 +771,7 @@ public final class EdgesBuiltTest extends Edges {
     // ---- promise 9
 
     private static void arrayWords() {
-        sentence("Promise 9", "An ARRAY of 1 .. 10 WORDS: its number.");
+        sentence(9, "An ARRAY of 1 .. 10 WORDS: its number.");
         for (int words : new int[] {0, 11, -1, 12, -10, 256, MIN, MAX}) {
             refused("array(" + words + ")", OUTSIDE, x -> x.array(words));
         }
@@ -760,7 +786,7 @@ public final class EdgesBuiltTest extends Edges {
     }
 
     private static void arrayFull() {
-        sentence("Terms 1", "ARRAYS 301 .. 310, as they come.");
+        sentence(9, "ARRAYS 301 .. 310, as they come.");
         VeneerRows x = strict();
         for (int k = 301; k <= 310; k++) {
             is("array(10)", x.array(10), k);
@@ -785,7 +811,7 @@ public final class EdgesBuiltTest extends Edges {
     }
 
     private static void arrayOrder() {
-        sentence("Promise 9", "its number. OUTSIDE; ROOM.");
+        sentence(9, "its number. OUTSIDE; ROOM.");
         VeneerRows x = strict();
         for (int k = 301; k <= 310; k++) {
             x.array(1);
@@ -796,7 +822,7 @@ public final class EdgesBuiltTest extends Edges {
     }
 
     private static void arrayAtFirst0() {
-        sentence("Terms 3", "WORDS of an ARRAY are ints, at first 0");
+        sentence(9, "WORDS of an ARRAY are ints, at first 0");
         VeneerRows x = strict();
         x.array(10);
         for (int i = 0; i < 10; i++) {
@@ -814,7 +840,7 @@ public final class EdgesBuiltTest extends Edges {
     // ---- promise 10
 
     private static void calledWhat() {
-        sentence("Promise 10", "A CLASS or OBJECT (THERE or not) has a TEXT");
+        sentence(10, "A CLASS or OBJECT (THERE or not) has a TEXT");
         for (int v : new int[] {0, 7, 40, 41, -1, 101, 201, 301, MIN, MAX}) {
             refused("called(" + v + ", 101, true)", UNKNOWN, x -> x.called(v, 101, true));
             refused("called(" + v + ", 0, true)", UNKNOWN, x -> x.called(v, 0, true));
@@ -830,7 +856,7 @@ public final class EdgesBuiltTest extends Edges {
     }
 
     private static void calledText() {
-        sentence("Promise 10", "(0: none), and is PROPER or not: 1. UNKNOWN.");
+        sentence(10, "(0: none), and is PROPER or not: 1. UNKNOWN.");
         for (int text : new int[] {100, 103, 120, 121, -1, 1, 5, 201, 301, MIN, MAX}) {
             refused("called(5, " + text + ", true)", UNKNOWN, x -> x.called(5, text, true));
             refused("called(6, " + text + ", true)", UNKNOWN, x -> x.called(6, text, true));
@@ -847,7 +873,7 @@ public final class EdgesBuiltTest extends Edges {
     }
 
     private static void calledNone() {
-        sentence("Promise 10", "has a TEXT (0: none)");
+        sentence(10, "has a TEXT (0: none)");
         VeneerRows x = newHouse(1);
         is("called(5, 0, false)", x.called(5, 0, false), 1);
         is("its name", nameOf(x, 5, 1), "(5)");
@@ -860,7 +886,7 @@ public final class EdgesBuiltTest extends Edges {
     }
 
     private static void calledProper() {
-        sentence("Promise 10", "and is PROPER or not: 1.");
+        sentence(10, "and is PROPER or not: 1.");
         VeneerRows x = newHouse(1);
         is("not proper", nameOf(x, 5, 1), "the owl");
         is("proper", x.called(5, 101, true), 1);

@@ -26,6 +26,7 @@ public final class EdgesDoneTest extends Edges {
         loopEmpty();
         loopArguments();
         loopBroken();
+        loopBrokenLater();
         loopBrokenByEnd();
         loopLastOne();
         loopFull();
@@ -51,7 +52,7 @@ public final class EdgesDoneTest extends Edges {
         nameOtherArticles();
         nameProper();
         nameBytes();
-        end();
+        end(13, 24);
     }
 
     private static String nameOf(VeneerRows x, int v, int article) {
@@ -66,7 +67,7 @@ public final class EdgesDoneTest extends Edges {
     // ---- promise 13
 
     private static void readOfWhat() {
-        sentence("Promise 13", "READ (VALUE i of a NAME of a number): FAULT 1 as above");
+        sentence(13, "READ (VALUE i of a NAME of a number): FAULT 1 as above");
         for (int v : NO_THINGS) {
             faulty("read(" + v + ", 3, 0)", "1/" + v + "/3", x -> x.read(v, 3, 0));
         }
@@ -77,7 +78,7 @@ public final class EdgesDoneTest extends Edges {
     }
 
     private static void readOwnRows() {
-        sentence("Promise 13", "(a CLASS's own ROWS may be read)");
+        sentence(13, "(a CLASS's own ROWS may be read)");
         quiet("read(1, 3, 0)", 201, x -> x.read(1, 3, 0));
         quiet("read(2, 4, 3)", 43, x -> x.read(2, 4, 3));
         quiet("read(2, 0, 0)", 20, x -> x.read(2, 0, 0));
@@ -86,7 +87,7 @@ public final class EdgesDoneTest extends Edges {
     }
 
     private static void readWithoutRow() {
-        sentence("Promise 13", "FAULT 3 without such a ROW");
+        sentence(13, "FAULT 3 without such a ROW");
         for (int name : new int[] {1, 2, 5, 11, 12, 13, 15, 16, -1, MIN, MAX}) {
             faulty("read(5, " + name + ", 0)", "3/5/" + name, x -> x.read(5, name, 0));
             faulty("read(1, " + name + ", 0)", "3/1/" + name, x -> x.read(1, name, 0));
@@ -98,7 +99,7 @@ public final class EdgesDoneTest extends Edges {
     }
 
     private static void readWithoutValue() {
-        sentence("Promise 13", "FAULT 5, if it has no VALUE i.");
+        sentence(13, "FAULT 5, if it has no VALUE i.");
         for (int many = 1; many <= 4; many++) {
             VeneerRows x = strict();
             x.object(0, 0);
@@ -120,7 +121,7 @@ public final class EdgesDoneTest extends Edges {
     }
 
     private static void readOrder() {
-        sentence("Promise 13", "FAULT 3 without such a ROW; FAULT 5, if it has no VALUE i.");
+        sentence(13, "FAULT 3 without such a ROW; FAULT 5, if it has no VALUE i.");
         faulty("1 ahead of 3 and 5", "1/0/12", x -> x.read(0, 12, 9));
         faulty("1 ahead of 5", "1/4/4", x -> x.read(4, 4, 9));
         faulty("3 ahead of 5", "3/5/5", x -> x.read(5, 5, 9));
@@ -130,7 +131,7 @@ public final class EdgesDoneTest extends Edges {
     // ---- promise 14
 
     private static void writeOfWhat() {
-        sentence("Promise 14", "WRITTEN, likewise.");
+        sentence(14, "WRITTEN, likewise.");
         for (int v : NO_THINGS) {
             faulty("write(" + v + ", 3, 0, 9)", "1/" + v + "/3", x -> x.write(v, 3, 0, 9));
         }
@@ -147,7 +148,7 @@ public final class EdgesDoneTest extends Edges {
     }
 
     private static void writeWithoutRow() {
-        sentence("Promise 14", "FAULT 3 without such a ROW; FAULT 5, if it has no VALUE i. WRITTEN, likewise.");
+        sentence(14, "FAULT 3 without such a ROW; FAULT 5, if it has no VALUE i. WRITTEN, likewise.");
         for (int name : new int[] {1, 2, 5, 11, 12, 15, 16, -1, MIN, MAX}) {
             faulty("write(5, " + name + ", 0, 9)", "3/5/" + name, x -> x.write(5, name, 0, 9));
             faulty("write(1, " + name + ", 0, 9)", "3/1/" + name, x -> x.write(1, name, 0, 9));
@@ -158,7 +159,7 @@ public final class EdgesDoneTest extends Edges {
     }
 
     private static void writeWithoutValue() {
-        sentence("Promise 14", "FAULT 5, if it has no VALUE i. WRITTEN, likewise.");
+        sentence(14, "FAULT 5, if it has no VALUE i. WRITTEN, likewise.");
         for (int i : new int[] {-1, 4, 5, MIN, MAX}) {
             faulty("write(5, 4, " + i + ", 9)", "5/5/4", x -> x.write(5, 4, i, 9));
             faulty("write(2, 4, " + i + ", 9)", "5/2/4", x -> x.write(2, 4, i, 9));
@@ -169,7 +170,7 @@ public final class EdgesDoneTest extends Edges {
     }
 
     private static void writeAnyInt() {
-        sentence("Promise 14", "WRITTEN: v.");
+        sentence(14, "WRITTEN: v.");
         for (int v : new int[] {MIN, -1, 0, 1, MAX}) {
             VeneerRows x = newHouse(1);
             is("write(6, 11, 0, " + v + ")", x.write(6, 11, 0, v), v);
@@ -182,7 +183,7 @@ public final class EdgesDoneTest extends Edges {
     // ---- promise 15
 
     private static void moveWhat() {
-        sentence("Promise 15", "FAULT 6, if a is no OBJECT that is THERE");
+        sentence(15, "FAULT 6, if a is no OBJECT that is THERE");
         for (int a : new int[] {0, 1, 2, 4, 7, 40, 41, -1, 101, 201, 301, MIN, MAX}) {
             faulty("move(" + a + ", 5)", "6/" + a + "/5", x -> x.move(a, 5));
             faulty("move(" + a + ", 0)", "6/" + a + "/0", x -> x.move(a, 0));
@@ -193,7 +194,7 @@ public final class EdgesDoneTest extends Edges {
     }
 
     private static void moveToWhat() {
-        sentence("Promise 15", "or b neither 0 nor one");
+        sentence(15, "or b neither 0 nor one");
         for (int b : new int[] {1, 2, 4, 7, 40, 41, -1, 101, 201, 301, MIN, MAX}) {
             faulty("move(3, " + b + ")", "6/3/" + b, x -> x.move(3, b));
             faulty("move(5, " + b + ")", "6/5/" + b, x -> x.move(5, b));
@@ -201,7 +202,7 @@ public final class EdgesDoneTest extends Edges {
     }
 
     private static void moveIntoItself() {
-        sentence("Promise 15", "FAULT 7, if b is a, or lies within a.");
+        sentence(15, "FAULT 7, if b is a, or lies within a.");
         faulty("move(5, 5)", "7/5/5", x -> x.move(5, 5));
         faulty("move(3, 3)", "7/3/3", x -> x.move(3, 3));
         faulty("into its first CHILD", "7/5/3", x -> x.move(5, 3));
@@ -228,14 +229,14 @@ public final class EdgesDoneTest extends Edges {
     }
 
     private static void moveOrder() {
-        sentence("Promise 15", "FAULT 6, if a is no OBJECT that is THERE, or b neither 0 nor one; FAULT 7, if b is a");
+        sentence(15, "FAULT 6, if a is no OBJECT that is THERE, or b neither 0 nor one; FAULT 7, if b is a");
         faulty("a CLASS to itself", "6/1/1", x -> x.move(1, 1));
         faulty("a FREE one to itself", "6/4/4", x -> x.move(4, 4));
         faulty("0 to 0", "6/0/0", x -> x.move(0, 0));
     }
 
     private static void moveOut() {
-        sentence("Promise 15", "MOVED, a to b (0: out)");
+        sentence(15, "MOVED, a to b (0: out)");
         VeneerRows x = newHouse(1);
         is("move(3, 0)", x.move(3, 0), 1);
         is("its PARENT", x.tree(3, 0), 0);
@@ -252,7 +253,7 @@ public final class EdgesDoneTest extends Edges {
     }
 
     private static void moveLastFirst() {
-        sentence("Promise 15", "among its CHILDREN, the one that came there last first.");
+        sentence(15, "among its CHILDREN, the one that came there last first.");
         VeneerRows x = strict();
         objects(x, 5);
         String[] orders = {"2", "3 2", "4 3 2"};
@@ -273,7 +274,7 @@ public final class EdgesDoneTest extends Edges {
     }
 
     private static void moveFull() {
-        sentence("Promise 15", "MOVED: 1.");
+        sentence(15, "MOVED: 1.");
         VeneerRows x = strict();
         objects(x, 40);
         for (int k = 2; k <= 40; k++) {
@@ -287,12 +288,22 @@ public final class EdgesDoneTest extends Edges {
         is("behind the last", x.tree(3, 2), 0);
         is("how many", x.tree(1, 3), 38);
         is("no fault", x.count(4), 0);
+        VeneerRows y = strict();
+        objects(y, 40);
+        for (int k = 1; k <= 39; k++) {
+            is("move(" + k + ", 40)", y.move(k, 40), 1);
+        }
+        is("how many", y.tree(40, 3), 39);
+        is("the first", y.tree(40, 1), 39);
+        is("the last", y.tree(2, 2), 1);
+        is("its PARENT", y.tree(1, 0), 40);
+        is("no fault", y.count(4), 0);
     }
 
     // ---- promise 16
 
     private static void treeOfWhat() {
-        sentence("Promise 16", "PARENT, CHILD, SIBLING of what is no OBJECT that is THERE: FAULT 6.");
+        sentence(16, "PARENT, CHILD, SIBLING of what is no OBJECT that is THERE: FAULT 6.");
         for (int v : new int[] {0, 1, 2, 4, 7, 40, 41, -1, 101, 201, 301, MIN, MAX}) {
             for (int what : new int[] {0, 1, 2, 3}) {
                 faulty("tree(" + v + ", " + what + ")", "6/" + v + "/0", x -> x.tree(v, what));
@@ -306,7 +317,7 @@ public final class EdgesDoneTest extends Edges {
     }
 
     private static void treeInNothing() {
-        sentence("Promise 16", "(SIBLING of what lies in NOTHING: 0.)");
+        sentence(16, "(SIBLING of what lies in NOTHING: 0.)");
         VeneerRows x = strict();
         objects(x, 4);
         for (int v = 1; v <= 4; v++) {
@@ -324,7 +335,7 @@ public final class EdgesDoneTest extends Edges {
     }
 
     private static void treeOthers() {
-        sentence("Promise 16", "what = 0 PARENT, 1 first CHILD, 2 SIBLING; else how many CHILDREN (FAULT 6 likewise).");
+        sentence(16, "what = 0 PARENT, 1 first CHILD, 2 SIBLING; else how many CHILDREN (FAULT 6 likewise).");
         VeneerRows x = strict();
         objects(x, 9);
         x.move(1, 7);
@@ -348,7 +359,7 @@ public final class EdgesDoneTest extends Edges {
     }
 
     private static void treeSibling() {
-        sentence("Promise 16", "its SIBLING (the next one of its PARENT's CHILDREN)");
+        sentence(16, "its SIBLING (the next one of its PARENT's CHILDREN)");
         VeneerRows x = newHouse(1);
         is("of the first", x.tree(3, 2), 6);
         is("of the last", x.tree(6, 2), 0);
@@ -362,7 +373,7 @@ public final class EdgesDoneTest extends Edges {
     // ---- promise 17
 
     private static void loopOfWhat() {
-        sentence("Promise 17", "FAULT 6: no OBJECT that is THERE; then FAULT 13: no ROUTINE.");
+        sentence(17, "FAULT 6: no OBJECT that is THERE; then FAULT 13: no ROUTINE.");
         for (int v : new int[] {0, 1, 2, 4, 7, 40, 41, -1, 101, 201, 301, MIN, MAX}) {
             faulty("loop(" + v + ", 202)", "6/" + v + "/0", x -> x.loop(v, 202));
         }
@@ -378,7 +389,7 @@ public final class EdgesDoneTest extends Edges {
     }
 
     private static void loopOrder() {
-        sentence("Promise 17", "then FAULT 13: no ROUTINE.");
+        sentence(17, "then FAULT 13: no ROUTINE.");
         faulty("both", "6/0/0", x -> x.loop(0, 0));
         faulty("both", "6/4/0", x -> x.loop(4, 203));
         faulty("both", "6/1/0", x -> x.loop(1, -1));
@@ -394,7 +405,7 @@ public final class EdgesDoneTest extends Edges {
     }
 
     private static void loopEmpty() {
-        sentence("Promise 17", "A LOOP: how many CHILDREN went.");
+        sentence(17, "A LOOP: how many CHILDREN went.");
         quiet("none", 0, x -> x.loop(3, 202));
         for (int many : new int[] {0, 1, 2, 39}) {
             VeneerRows x = strict();
@@ -409,7 +420,7 @@ public final class EdgesDoneTest extends Edges {
     }
 
     private static void loopArguments() {
-        sentence("Promise 17", "the ROUTINE is RUN with the CHILD as SELF, the OBJECT as the ARGUMENT");
+        sentence(17, "the ROUTINE is RUN with the CHILD as SELF, the OBJECT as the ARGUMENT");
         VeneerRows x = newHouse(1);
         x.clear();
         is("loop", x.loop(5, routineOf(x, a(2), a(13), a(1), a(13, 3))), 2);
@@ -417,7 +428,7 @@ public final class EdgesDoneTest extends Edges {
     }
 
     private static void loopBroken() {
-        sentence("Promise 17", "if n is not 0, and lies in the OBJECT no more, the LOOP is BROKEN: FAULT 11, and it ends");
+        sentence(17, "if n is not 0, and lies in the OBJECT no more, the LOOP is BROKEN: FAULT 11, and it ends");
         // In 1 lie 5, 4, 3, 2; each one's routine sends name 3 to its sibling, by which that moves to 6.
         for (int to = 0; to <= 6; to += 6) {
             VeneerRows x = strict();
@@ -453,8 +464,27 @@ public final class EdgesDoneTest extends Edges {
         is("none is left", y.tree(1, 3), 0);
     }
 
+    private static void loopBrokenLater() {
+        sentence(17, "FAULT 11, and it ends; else it goes on with n");
+        // In 1 lie 5, 4, 3, 2; the one in question sends its sibling out, the others do nothing.
+        for (int breaker = 2; breaker <= 5; breaker++) {
+            VeneerRows x = strict();
+            objects(x, 5);
+            int out = routineOf(x, a(0, 0), a(8));
+            int send = routineOf(x, a(2), a(11), a(12), a(6, 3, 0));
+            for (int k = 2; k <= 5; k++) {
+                x.move(k, 1);
+                x.value(k, 3, 0, out);
+                x.value(k, 5, 0, k == breaker ? send : 0);
+            }
+            is(breaker + " breaks it", x.loop(1, routineOf(x, a(2), a(6, 5, 0))), breaker == 2 ? 4 : 6 - breaker);
+            is(breaker + " breaks it", faults(x), breaker == 2 ? "" : "11/" + (breaker - 1) + "/0");
+            is(breaker + " breaks it", x.tree(1, 3), breaker == 2 ? 4 : 3);
+        }
+    }
+
     private static void loopBrokenByEnd() {
-        sentence("Promise 17", "and lies in the OBJECT no more");
+        sentence(17, "and lies in the OBJECT no more");
         VeneerRows x = strict();
         x.group(0, 0, 3);
         for (int k = 2; k <= 4; k++) {
@@ -472,7 +502,7 @@ public final class EdgesDoneTest extends Edges {
     }
 
     private static void loopLastOne() {
-        sentence("Promise 17", "if n is not 0, and lies in the OBJECT no more");
+        sentence(17, "if n is not 0, and lies in the OBJECT no more");
         VeneerRows x = strict();
         x.group(0, 0, 2);
         x.send(1, 12, 0);
@@ -484,7 +514,7 @@ public final class EdgesDoneTest extends Edges {
     }
 
     private static void loopFull() {
-        sentence("Promise 17", "else it goes on with n; 40 CHILDREN at most.");
+        sentence(17, "else it goes on with n; 40 CHILDREN at most.");
         VeneerRows x = strict();
         // 2 and 3 lie in 1; each one puts its sibling ahead of itself, so that there is always one more.
         objects(x, 3);
@@ -508,7 +538,7 @@ public final class EdgesDoneTest extends Edges {
     // ---- promise 18
 
     private static void metaOfNumbers() {
-        sentence("Promise 18", "META of a number: 1 a CLASS, 2 an OBJECT that is THERE, 3 a TEXT, 4 a ROUTINE, 5 an "
+        sentence(18, "META of a number: 1 a CLASS, 2 an OBJECT that is THERE, 3 a TEXT, 4 a ROUTINE, 5 an "
             + "ARRAY; else 0.");
         int[][] metas = {{1, 1}, {2, 1}, {3, 2}, {4, 0}, {5, 2}, {6, 2}, {7, 0}, {0, 0}, {-1, 0}, {40, 0}, {41, 0},
             {100, 0}, {101, 3}, {102, 3}, {103, 0}, {120, 0}, {200, 0}, {201, 4}, {202, 4}, {203, 0}, {300, 0},
@@ -538,7 +568,7 @@ public final class EdgesDoneTest extends Edges {
     // ---- promise 19
 
     private static void isOfWhat() {
-        sentence("Promise 19", "1, 0 (of other numbers 0, no FAULT).");
+        sentence(19, "1, 0 (of other numbers 0, no FAULT).");
         for (int v : new int[] {0, 1, 2, 4, 6, 7, 41, -1, 101, 201, 301, MIN, MAX}) {
             quiet("isOf(" + v + ", 2)", 0, x -> x.isOf(v, 2));
             quiet("isOf(" + v + ", 1)", 0, x -> x.isOf(v, 1));
@@ -551,7 +581,7 @@ public final class EdgesDoneTest extends Edges {
     }
 
     private static void isOfLine() {
-        sentence("Promise 19", "It IS OF the CLASSES of its LINE.");
+        sentence(19, "It IS OF the CLASSES of its LINE.");
         quiet("its CLASS", 1, x -> x.isOf(5, 2));
         quiet("that one's PARENT", 1, x -> x.isOf(5, 1));
         quiet("one of a POOL", 1, x -> x.isOf(3, 2));
@@ -569,7 +599,7 @@ public final class EdgesDoneTest extends Edges {
     // ---- promise 20
 
     private static void providesWhat() {
-        sentence("Promise 20", "0 also of what is none (no FAULT).");
+        sentence(20, "0 also of what is none (no FAULT).");
         for (int v : NO_THINGS) {
             quiet("provides(" + v + ", 4)", 0, x -> x.provides(v, 4));
         }
@@ -583,7 +613,7 @@ public final class EdgesDoneTest extends Edges {
     }
 
     private static void providesNames() {
-        sentence("Promise 20", "How many VALUES a THING (META 1, 2) has of a NAME");
+        sentence(20, "How many VALUES a THING (META 1, 2) has of a NAME");
         for (int name : new int[] {-1, 1, 12, 13, 14, 15, 16, MIN, MAX}) {
             quiet("provides(5, " + name + ")", 0, x -> x.provides(5, name));
             quiet("provides(2, " + name + ")", 0, x -> x.provides(2, name));
@@ -593,7 +623,7 @@ public final class EdgesDoneTest extends Edges {
     }
 
     private static void providesMany() {
-        sentence("Promise 20", "How many VALUES a THING (META 1, 2) has");
+        sentence(20, "How many VALUES a THING (META 1, 2) has");
         VeneerRows x = strict();
         x.group(0, 0, 0);
         x.object(1, 0);
@@ -611,7 +641,7 @@ public final class EdgesDoneTest extends Edges {
     private static final int[] NO_ARRAYS = {300, 302, 310, 311, 0, 1, 5, -1, 101, 201, MIN, MAX};
 
     private static void wordOfWhat() {
-        sentence("Promise 21", "WORD i of an ARRAY. FAULT 14: no ARRAY; 12.");
+        sentence(21, "WORD i of an ARRAY. FAULT 14: no ARRAY; 12.");
         for (int v : NO_ARRAYS) {
             faulty("word(" + v + ", 1)", "14/" + v + "/1", x -> x.word(v, 1));
             faulty("word(" + v + ", -1), 14 ahead of 12", "14/" + v + "/-1", x -> x.word(v, -1));
@@ -630,7 +660,7 @@ public final class EdgesDoneTest extends Edges {
     }
 
     private static void wordBeyond() {
-        sentence("Promise 21", "Beyond these: FAULT 12.");
+        sentence(21, "Beyond these: FAULT 12.");
         for (int i : new int[] {-1, 3, 4, 10, -3, MIN, MAX}) {
             faulty("word(301, " + i + ")", "12/301/" + i, x -> x.word(301, i));
         }
@@ -648,7 +678,7 @@ public final class EdgesDoneTest extends Edges {
     }
 
     private static void setWordOfWhat() {
-        sentence("Promise 22", "WORD i becomes v: v. FAULTS likewise.");
+        sentence(22, "WORD i becomes v: v. FAULTS likewise.");
         for (int v : NO_ARRAYS) {
             faulty("setWord(" + v + ", 1, 9)", "14/" + v + "/1", x -> x.setWord(v, 1, 9));
             faulty("setWord(" + v + ", 99, 9), 14 ahead of 12", "14/" + v + "/99", x -> x.setWord(v, 99, 9));
@@ -663,7 +693,7 @@ public final class EdgesDoneTest extends Edges {
     }
 
     private static void setWordBeyond() {
-        sentence("Promise 22", "FAULTS likewise.");
+        sentence(22, "FAULTS likewise.");
         for (int i : new int[] {-1, 3, 4, 10, MIN, MAX}) {
             faulty("setWord(301, " + i + ", 9)", "12/301/" + i, x -> x.setWord(301, i, 9));
         }
@@ -675,7 +705,7 @@ public final class EdgesDoneTest extends Edges {
     }
 
     private static void byteOfWhat() {
-        sentence("Promise 23", "BYTE i, 0 .. 255. FAULTS likewise.");
+        sentence(23, "BYTE i, 0 .. 255. FAULTS likewise.");
         for (int v : NO_ARRAYS) {
             faulty("byteOf(" + v + ", 1)", "14/" + v + "/1", x -> x.byteOf(v, 1));
             faulty("byteOf(" + v + ", -5), 14 ahead of 12", "14/" + v + "/-5", x -> x.byteOf(v, -5));
@@ -692,7 +722,7 @@ public final class EdgesDoneTest extends Edges {
     }
 
     private static void byteBeyond() {
-        sentence("Promise 23", "and so on. Beyond these: FAULT 12.");
+        sentence(23, "and so on. Beyond these: FAULT 12.");
         for (int i : new int[] {-1, -2, -3, -4, -5, 12, 13, 40, MIN, MIN + 1, MAX}) {
             faulty("byteOf(301, " + i + ")", "12/301/" + i, x -> x.byteOf(301, i));
         }
@@ -710,7 +740,7 @@ public final class EdgesDoneTest extends Edges {
     }
 
     private static void byteOrder() {
-        sentence("Promise 23", "BYTE i is the highest byte of WORD i / 4 for i % 4 of 0, the one below for 1, and so on.");
+        sentence(23, "BYTE i is the highest byte of WORD i / 4 for i % 4 of 0, the one below for 1, and so on.");
         VeneerRows x = strict();
         x.array(10);
         for (int k = 0; k < 10; k++) {
@@ -725,7 +755,7 @@ public final class EdgesDoneTest extends Edges {
     // ---- promise 24
 
     private static void nameOf0() {
-        sentence("Promise 24", "of 0 \"nothing\"");
+        sentence(24, "of 0 \"nothing\"");
         for (int article = -1; article <= 4; article++) {
             VeneerRows x = newHouse(1);
             is("article " + article, nameOf(x, 0, article), "nothing");
@@ -735,7 +765,7 @@ public final class EdgesDoneTest extends Edges {
     }
 
     private static void nameOfNone() {
-        sentence("Promise 24", "of what is no THING \"(none)\"");
+        sentence(24, "of what is no THING \"(none)\"");
         for (int v : new int[] {4, 7, 40, 41, -1, -5, 100, 101, 201, 301, MIN, MAX}) {
             for (int article = 0; article <= 3; article += 3) {
                 VeneerRows x = newHouse(1);
@@ -747,7 +777,7 @@ public final class EdgesDoneTest extends Edges {
     }
 
     private static void nameOfClass() {
-        sentence("Promise 24", "of a CLASS first \"class \"");
+        sentence(24, "of a CLASS first \"class \"");
         for (int article = -1; article <= 4; article++) {
             VeneerRows x = newHouse(1);
             is("without a TEXT", nameOf(x, 1, article), "class (1)");
@@ -758,7 +788,7 @@ public final class EdgesDoneTest extends Edges {
     }
 
     private static void nameWithoutText() {
-        sentence("Promise 24", "then, without a TEXT, its number between \"(\" and \")\"");
+        sentence(24, "then, without a TEXT, its number between \"(\" and \")\"");
         VeneerRows x = strict();
         objects(x, 40);
         for (int v : new int[] {1, 9, 10, 11, 19, 20, 39, 40}) {
@@ -774,7 +804,7 @@ public final class EdgesDoneTest extends Edges {
     }
 
     private static void nameArticles() {
-        sentence("Promise 24", "article 1 puts \"the \", 2 \"an \", if the TEXT begins with a e i o u, small or great, "
+        sentence(24, "article 1 puts \"the \", 2 \"an \", if the TEXT begins with a e i o u, small or great, "
             + "else \"a \", 3 \"The \".");
         VeneerRows x = newHouse(1);
         is("article 1", nameOf(x, 5, 1), "the owl");
@@ -787,7 +817,7 @@ public final class EdgesDoneTest extends Edges {
     }
 
     private static void nameVowels() {
-        sentence("Promise 24", "if the TEXT begins with a e i o u, small or great, else \"a \"");
+        sentence(24, "if the TEXT begins with a e i o u, small or great, else \"a \"");
         for (int c = 32; c <= 126; c++) {
             VeneerRows x = strict();
             x.object(0, 0);
@@ -807,7 +837,7 @@ public final class EdgesDoneTest extends Edges {
     }
 
     private static void nameOtherArticles() {
-        sentence("Promise 24", "with an article 0 .. 3 (others: as 0)");
+        sentence(24, "with an article 0 .. 3 (others: as 0)");
         for (int article : new int[] {0, -1, 4, 5, -2, 256 + 1, MIN, MAX}) {
             VeneerRows x = newHouse(1);
             is("article " + article, nameOf(x, 5, article), "owl");
@@ -815,7 +845,7 @@ public final class EdgesDoneTest extends Edges {
     }
 
     private static void nameProper() {
-        sentence("Promise 24", "(but not of a PROPER THING's, and of a CLASS's)");
+        sentence(24, "(but not of a PROPER THING's, and of a CLASS's)");
         for (int article = 0; article <= 3; article++) {
             VeneerRows x = newHouse(1);
             x.called(5, 101, true);
@@ -826,7 +856,7 @@ public final class EdgesDoneTest extends Edges {
     }
 
     private static void nameBytes() {
-        sentence("Promise 24", "how many bytes OUT has then.");
+        sentence(24, "how many bytes OUT has then.");
         VeneerRows x = newHouse(1);
         is("behind the 7 that it has", x.name(5, 2), 13);
         is("name(0, 0)", x.name(0, 0), 20);

@@ -44,13 +44,13 @@ public final class EdgesSentTest extends Edges {
         recreateRows();
         recreateName1();
         remaining();
-        end();
+        end(11, 12);
     }
 
     // ---- promise 11: sent
 
     private static void sentToNoThing() {
-        sentence("Promise 11", "to what is no THING (META 1, 2): FAULT 1.");
+        sentence(11, "to what is no THING (META 1, 2): FAULT 1.");
         for (int to : new int[] {0, 4, 7, 40, 41, -1, 100, 101, 102, 201, 301, MIN, MAX}) {
             for (int name : new int[] {3, 12, -1}) {
                 faulty("send(" + to + ", " + name + ", 9)", "1/" + to + "/" + name, x -> x.send(to, name, 9));
@@ -64,7 +64,7 @@ public final class EdgesSentTest extends Edges {
     }
 
     private static void sentToClass() {
-        sentence("Promise 11", "To a CLASS: NAME 12 CREATE, 13 DESTROY, 14 REMAINING, 15 RECREATE, others FAULT 2.");
+        sentence(11, "To a CLASS: NAME 12 CREATE, 13 DESTROY, 14 REMAINING, 15 RECREATE, others FAULT 2.");
         // The classes have rows of names 0, 3 and 4, which are no answer here.
         for (int name : new int[] {11, 16, 0, 3, 4, -1, -12, 17, 256 + 12, MIN, MAX}) {
             faulty("send(2, " + name + ", 3)", "2/2/" + name, x -> x.send(2, name, 3));
@@ -80,7 +80,7 @@ public final class EdgesSentTest extends Edges {
     }
 
     private static void sentWithoutRow() {
-        sentence("Promise 11", "To an OBJECT: without a ROW of that NAME (12 to 15: too) FAULT 3.");
+        sentence(11, "To an OBJECT: without a ROW of that NAME (12 to 15: too) FAULT 3.");
         // 5 has rows of names 0, 3 and 4, 6 of name 11 alone.
         for (int name : new int[] {1, 2, 5, 11, 12, 13, 14, 15, 16, -1, MIN, MAX}) {
             faulty("send(5, " + name + ", 3)", "3/5/" + name, x -> x.send(5, name, 3));
@@ -96,7 +96,7 @@ public final class EdgesSentTest extends Edges {
     }
 
     private static void sentFirstValue() {
-        sentence("Promise 11", "Else its first VALUE v: a ROUTINE is RUN");
+        sentence(11, "Else its first VALUE v: a ROUTINE is RUN");
         for (int v : new int[] {100, 103, 120, 121, 200, 203, 220, 221, 300, 301, 302, 310, 0, 1, 4, 5, 7, -1, MIN,
             MAX}) {
             VeneerRows x = newHouse(1);
@@ -109,7 +109,7 @@ public final class EdgesSentTest extends Edges {
     }
 
     private static void sentRoutine() {
-        sentence("Promise 11", "a ROUTINE is RUN with it as SELF and the ARGUMENT: the answer is its RESULT");
+        sentence(11, "a ROUTINE is RUN with it as SELF and the ARGUMENT: the answer is its RESULT");
         VeneerRows x = newHouse(1);
         row(x, 6, 8, 201, 40);
         for (int argument : new int[] {0, 1, -5, MIN}) {
@@ -132,7 +132,7 @@ public final class EdgesSentTest extends Edges {
     }
 
     private static void sentText() {
-        sentence("Promise 11", "a TEXT comes to OUT: 1; else v is the answer");
+        sentence(11, "a TEXT comes to OUT: 1; else v is the answer");
         VeneerRows x = strict();
         x.object(0, 0);
         for (int k = 0; k < 20; k++) {
@@ -155,7 +155,7 @@ public final class EdgesSentTest extends Edges {
     // ---- promise 12: sent as
 
     private static void sentAsToWhat() {
-        sentence("Promise 12", "FAULT 1, if it is no OBJECT that is THERE");
+        sentence(12, "FAULT 1, if it is no OBJECT that is THERE");
         for (int to : new int[] {0, 1, 2, 4, 7, 41, -1, 101, 201, 301, MIN, MAX}) {
             faulty("sendAs(1, " + to + ", 3, 9)", "1/" + to + "/3", x -> x.sendAs(1, to, 3, 9));
             faulty("sendAs(99, " + to + ", 3, 9)", "1/" + to + "/3", x -> x.sendAs(99, to, 3, 9));
@@ -166,7 +166,7 @@ public final class EdgesSentTest extends Edges {
     }
 
     private static void sentAsNotOf() {
-        sentence("Promise 12", "then FAULT 4, if it is not OF that CLASS");
+        sentence(12, "then FAULT 4, if it is not OF that CLASS");
         for (int group : new int[] {0, 3, 4, 5, 6, 7, 41, -1, 101, 201, 301, MIN, MAX}) {
             faulty("sendAs(" + group + ", 5, 3, 9)", "4/5/3", x -> x.sendAs(group, 5, 3, 9));
             faulty("sendAs(" + group + ", 5, 12, 9)", "4/5/12", x -> x.sendAs(group, 5, 12, 9));
@@ -176,7 +176,7 @@ public final class EdgesSentTest extends Edges {
     }
 
     private static void sentAsWithoutRow() {
-        sentence("Promise 12", "then FAULT 3, if that has no such ROW.");
+        sentence(12, "then FAULT 3, if that has no such ROW.");
         // Class 1 has rows of names 0 and 3, class 2 of 0 and 4, object 5 of 0, 3 and 4.
         for (int name : new int[] {4, 11, 12, 13, 14, 15, 16, -1, MIN, MAX}) {
             faulty("sendAs(1, 5, " + name + ", 9)", "3/5/" + name, x -> x.sendAs(1, 5, name, 9));
@@ -185,7 +185,7 @@ public final class EdgesSentTest extends Edges {
     }
 
     private static void sentAsRowOfClass() {
-        sentence("Promise 12", "the same with that CLASS's ROW of the NAME, SELF being the OBJECT");
+        sentence(12, "the same with that CLASS's ROW of the NAME, SELF being the OBJECT");
         VeneerRows x = newHouse(1);
         x.clear();
         x.value(5, 0, 0, -1);
@@ -215,7 +215,7 @@ public final class EdgesSentTest extends Edges {
     }
 
     private static void actResult() {
-        sentence("Promise 11", "0 RESULT becomes a. 1 the ARGUMENT. 2 SELF.");
+        sentence(11, "0 RESULT becomes a. 1 the ARGUMENT. 2 SELF.");
         for (int v : new int[] {MIN, -1, 0, 1, MAX}) {
             is("act 0", acting(a(0, 5), a(0, v)).send(1, 3, 7), v);
             is("act 1", acting(a(0, 5), a(1, 8, 9)).send(1, 3, v), v);
@@ -224,7 +224,7 @@ public final class EdgesSentTest extends Edges {
     }
 
     private static void actWraps() {
-        sentence("Promise 11", "3 RESULT is a more (wrapping).");
+        sentence(11, "3 RESULT is a more (wrapping).");
         int[][] sums = {{MAX, 1, MIN}, {MIN, -1, MAX}, {MAX, MAX, -2}, {MIN, MIN, 0}, {MAX, 0, MAX}, {MIN, 0, MIN},
             {MAX - 1, 1, MAX}, {MIN + 1, -1, MIN}, {0, MIN, MIN}, {-1, MAX, MAX - 1}};
         for (int[] s : sums) {
@@ -233,7 +233,7 @@ public final class EdgesSentTest extends Edges {
     }
 
     private static void actReads() {
-        sentence("Promise 11", "4 READ: RESULT becomes VALUE b of NAME a of SELF.");
+        sentence(11, "4 READ: RESULT becomes VALUE b of NAME a of SELF.");
         int[][] reads = {{4, -1, 5}, {4, 0, 0}, {4, 3, 0}, {4, 4, 5}, {5, 0, 3}, {11, 0, 0}, {12, 0, 3}, {-1, 0, 3},
             {4, MIN, 5}, {4, MAX, 5}, {MIN, 0, 3}};
         for (int[] r : reads) {
@@ -254,7 +254,7 @@ public final class EdgesSentTest extends Edges {
     }
 
     private static void actWrites() {
-        sentence("Promise 11", "5 WRITE: VALUE b of NAME a of SELF becomes RESULT (which stays).");
+        sentence(11, "5 WRITE: VALUE b of NAME a of SELF becomes RESULT (which stays).");
         int[][] writes = {{4, -1, 5}, {4, 0, 0}, {4, 1, 0}, {4, 2, 5}, {4, 4, 5}, {5, 0, 3}, {12, 0, 3}, {-1, 0, 3},
             {4, MIN, 5}, {4, MAX, 5}, {MAX, 0, 3}};
         for (int[] w : writes) {
@@ -268,7 +268,7 @@ public final class EdgesSentTest extends Edges {
     }
 
     private static void actSends() {
-        sentence("Promise 11", "6 SEND: RESULT becomes what NAME a, SENT to RESULT with b, answers.");
+        sentence(11, "6 SEND: RESULT becomes what NAME a, SENT to RESULT with b, answers.");
         for (int to : new int[] {0, 3, -1, 101, MIN, MAX}) {
             VeneerRows x = acting(a(1), a(6, 4, 8), a(3, 1));
             row(x, 1, 4, routineOf(x, a(1)));
@@ -287,7 +287,7 @@ public final class EdgesSentTest extends Edges {
     }
 
     private static void actSendsAs() {
-        sentence("Promise 11", "7 SEND AS: what NAME a, SENT AS CLASS b to SELF with the ARGUMENT, answers.");
+        sentence(11, "7 SEND AS: what NAME a, SENT AS CLASS b to SELF with the ARGUMENT, answers.");
         int[][] faults = {{4, 0, 4}, {4, 2, 4}, {4, 3, 4}, {4, 9, 4}, {4, MIN, 4}, {5, 1, 3}, {12, 1, 3}, {-1, 1, 3}};
         for (int[] f : faults) {
             VeneerRows x = strict();
@@ -300,11 +300,16 @@ public final class EdgesSentTest extends Edges {
             is("NAME " + f[0] + " as " + f[1], faults(x), f[2] + "/2/" + f[0]);
             row(x, 2, 3, routineOf(x, a(0, 7), a(7, 4, 1), a(3, 1)));
             is("NAME 4 as 1", x.send(2, 3, 50), 151);
+            x.object(1, 0);
+            x.value(1, 4, 0, routineOf(x, a(2), a(3, 100)));
+            row(x, 4, 3, x.read(2, 3, 0));
+            is("SELF is 4", x.send(4, 3, 50), 105);
+            is("SELF is 2", x.send(2, 3, 50), 103);
         }
     }
 
     private static void actMoves() {
-        sentence("Promise 11", "8 MOVE SELF to RESULT (which stays).");
+        sentence(11, "8 MOVE SELF to RESULT (which stays).");
         int[] to = {0, 2, 1, 3, 4, 5, -1, MAX};
         String[] told = {"", "", "7/1/1", "7/1/3", "6/1/4", "6/1/5", "6/1/-1", "6/1/" + MAX};
         for (int k = 0; k < to.length; k++) {
@@ -320,7 +325,7 @@ public final class EdgesSentTest extends Edges {
     }
 
     private static void actTree() {
-        sentence("Promise 11", "9 RESULT becomes the PARENT of it, 10 its first CHILD, 11 its SIBLING");
+        sentence(11, "9 RESULT becomes the PARENT of it, 10 its first CHILD, 11 its SIBLING");
         // In object 2 lie 4, 3 and 1, in that order; 5 is a class, 6 a free one.
         int[][] of = {{1, 2, 0, 0}, {2, 0, 4, 0}, {3, 2, 0, 1}, {4, 2, 0, 3}};
         for (int op = 9; op <= 11; op++) {
@@ -342,7 +347,7 @@ public final class EdgesSentTest extends Edges {
     }
 
     private static void actEndsAt0() {
-        sentence("Promise 11", "12 if RESULT is 0, the ROUTINE ends.");
+        sentence(11, "12 if RESULT is 0, the ROUTINE ends.");
         for (int v : new int[] {0, 1, -1, MIN, MAX, 256, 1 << 16}) {
             VeneerRows x = acting(a(1), a(12), a(0, 77));
             is("with " + v, x.send(1, 3, v), v == 0 ? 0 : 77);
@@ -357,7 +362,7 @@ public final class EdgesSentTest extends Edges {
     }
 
     private static void actName() {
-        sentence("Promise 11", "13 THE NAME of RESULT with article a comes to OUT.");
+        sentence(11, "13 THE NAME of RESULT with article a comes to OUT.");
         String[] names = {"owl", "the owl", "an owl", "The owl"};
         for (int article = -1; article <= 4; article++) {
             VeneerRows x = acting(a(1), a(13, article), a(3, 1));
@@ -375,7 +380,7 @@ public final class EdgesSentTest extends Edges {
     }
 
     private static void actIsOf() {
-        sentence("Promise 11", "14 if RESULT IS OF CLASS a, RESULT is 1, and the ROUTINE ends; else RESULT is 0.");
+        sentence(11, "14 if RESULT IS OF CLASS a, RESULT is 1, and the ROUTINE ends; else RESULT is 0.");
         // 2 and 3 are the pool of class 1, 2 is there; 4 is of none, 5 of 1.
         for (int group : new int[] {1, 0, 2, 5, 6, -1, MIN, MAX}) {
             VeneerRows x = strict();
@@ -411,7 +416,7 @@ public final class EdgesSentTest extends Edges {
     }
 
     private static void within12Sent() {
-        sentence("Promise 11", "A ROUTINE that would be RUN within 12 others: FAULT 9 instead, its RESULT 0.");
+        sentence(11, "A ROUTINE that would be RUN within 12 others: FAULT 9 instead, its RESULT 0.");
         for (int n = 1; n <= 15; n++) {
             VeneerRows x = chain(n);
             is("a chain of " + n, x.send(1, 3, 0), Math.min(n - 1, 12));
@@ -436,7 +441,7 @@ public final class EdgesSentTest extends Edges {
     }
 
     private static void within12SentAs() {
-        sentence("Promise 12", "A ROUTINE that would be RUN within 12 others: FAULT 9 instead");
+        sentence(12, "A ROUTINE that would be RUN within 12 others: FAULT 9 instead");
         VeneerRows x = strict();
         x.group(0, 0, 0);
         x.object(1, 0);
@@ -449,7 +454,7 @@ public final class EdgesSentTest extends Edges {
     }
 
     private static void within12Pool() {
-        sentence("Promise 11", "A ROUTINE that would be RUN within 12 others");
+        sentence(11, "A ROUTINE that would be RUN within 12 others");
         for (int depth = 11; depth <= 12; depth++) {
             for (int name = 12; name <= 15; name++) {
                 VeneerRows x = chain(depth);
@@ -473,7 +478,7 @@ public final class EdgesSentTest extends Edges {
     }
 
     private static void within12Others() {
-        sentence("Promise 17", "A ROUTINE that would be RUN within 12 others");
+        sentence(17, "A ROUTINE that would be RUN within 12 others");
         VeneerRows x = chain(13);
         // A loop's routines are within none: from 2 on there are 12.
         is("loop(1, 201)", x.loop(1, 201), 1);
@@ -483,12 +488,13 @@ public final class EdgesSentTest extends Edges {
         is("send(1, 3, 0)", faults(x), "9/13/0");
         is("loop(1, 201)", x.loop(1, 201), 1);
         is("no fault more", x.count(4), 1);
+        VeneerRows z = chain(14);
+        is("from 2 on there are 13", z.loop(1, 201), 1);
+        is("the 13th", faults(z), "9/14/0");
+        is("acts", z.count(6), 60);
         VeneerRows y = strict();
-        // Twenty one behind the other are not within one another.
-        row(y, y.object(0, 0), 3, routineOf(y, a(1)));
-        for (int k = 0; k < 3; k++) {
-            y.object(0, 0);
-        }
+        objects(y, 3);
+        row(y, 1, 3, routineOf(y, a(1)));
         row(y, 2, 3, routineOf(y, a(0, 1), a(6, 3, 0), a(0, 1), a(6, 3, 0), a(0, 1), a(6, 3, 0), a(0, 1), a(6, 3, 1)));
         row(y, 3, 3, routineOf(y, a(0, 2), a(6, 3, 0), a(0, 2), a(6, 3, 0), a(0, 2), a(6, 3, 0), a(0, 2), a(6, 3, 1)));
         is("sixteen, one behind the other", y.send(3, 3, 0), 1);
@@ -526,7 +532,7 @@ public final class EdgesSentTest extends Edges {
     }
 
     private static void acts200() {
-        sentence("Promise 11", "A call has 200 ACTS: with the first one more FAULT 10 is told");
+        sentence(11, "A call has 200 ACTS: with the first one more FAULT 10 is told");
         VeneerRows x = busy();
         is("199", x.send(2, 7, 0), 7);
         is("199", x.count(6), 199);
@@ -545,7 +551,7 @@ public final class EdgesSentTest extends Edges {
     }
 
     private static void acts201() {
-        sentence("Promise 11", "ends where it would do one, with the RESULT that it has");
+        sentence(11, "ends where it would do one, with the RESULT that it has");
         for (int ahead = 1; ahead <= 7; ahead++) {
             VeneerRows x = busy();
             int r = x.routine();
@@ -562,7 +568,7 @@ public final class EdgesSentTest extends Edges {
     }
 
     private static void actsGoOn() {
-        sentence("Promise 11", "and each ROUTINE that is RUN from there on, or goes on, ends where it would do one");
+        sentence(11, "and each ROUTINE that is RUN from there on, or goes on, ends where it would do one");
         VeneerRows x = busy();
         // Name 9 has 198 acts and answers 7.
         row(x, 1, 9, fourOf(x, 5, 3, 8, 8));
@@ -583,7 +589,7 @@ public final class EdgesSentTest extends Edges {
     }
 
     private static void actsRunFromThere() {
-        sentence("Promise 17", "each ROUTINE that is RUN from there on");
+        sentence(17, "each ROUTINE that is RUN from there on");
         VeneerRows x = strict();
         int eight = routineOf(x, a(4, 3, 0), a(3, 1), a(3, 1), a(3, 1), a(3, 1), a(3, 1), a(3, 1), a(5, 3, 0));
         x.object(0, 0);
@@ -621,7 +627,7 @@ public final class EdgesSentTest extends Edges {
     }
 
     private static void actsOnceACall() {
-        sentence("Promise 11", "(FAULT 10 once a call)");
+        sentence(11, "(FAULT 10 once a call)");
         VeneerRows x = busy();
         // Names 9 and 10 have 808 and 168 acts: many end where they would do one.
         row(x, 2, 10, fourOf(x, 5, 5, 5, 5));
@@ -648,7 +654,7 @@ public final class EdgesSentTest extends Edges {
     // ---- pools
 
     private static void createLeast() {
-        sentence("Promise 11", "CREATE, SENT to a CLASS: its FREE OBJECT of the least number is THERE");
+        sentence(11, "CREATE, SENT to a CLASS: its FREE OBJECT of the least number is THERE");
         VeneerRows x = strict();
         x.group(0, 0, 6);
         x.group(1, 0, 1);
@@ -670,7 +676,7 @@ public final class EdgesSentTest extends Edges {
     }
 
     private static void createNone() {
-        sentence("Promise 11", "the answer is the OBJECT (0 without a FREE one, no FAULT).");
+        sentence(11, "the answer is the OBJECT (0 without a FREE one, no FAULT).");
         quiet("without a POOL", 0, x -> x.send(1, 12, 0));
         quiet("with an empty one", 0, x -> {
             house(x);
@@ -683,7 +689,7 @@ public final class EdgesSentTest extends Edges {
     }
 
     private static void createRows() {
-        sentence("Promise 11", "is THERE, with ROWS as if it came now");
+        sentence(11, "is THERE, with ROWS as if it came now");
         VeneerRows x = strict();
         x.group(0, 0, 0);
         row(x, 1, 0, 1, 2, 3);
@@ -707,7 +713,7 @@ public final class EdgesSentTest extends Edges {
     }
 
     private static void createName1() {
-        sentence("Promise 11", "then, if it has a ROW of NAME 1, that is SENT to it with the ARGUMENT");
+        sentence(11, "then, if it has a ROW of NAME 1, that is SENT to it with the ARGUMENT");
         for (int argument : new int[] {MIN, -1, 0, MAX}) {
             VeneerRows x = strict();
             x.group(0, 0, 1);
@@ -732,7 +738,7 @@ public final class EdgesSentTest extends Edges {
     }
 
     private static void destroyWhat() {
-        sentence("Promise 11", "DESTROY: the ARGUMENT is one of its POOL that is THERE, else FAULT 8");
+        sentence(11, "DESTROY: the ARGUMENT is one of its POOL that is THERE, else FAULT 8");
         poolArguments(13);
         VeneerRows x = strict();
         x.object(0, 0);
@@ -751,7 +757,7 @@ public final class EdgesSentTest extends Edges {
         is("faults", faults(x), "8/2/1 8/2/2 8/2/6 8/2/3");
     }
 
-    /** In the house 3 alone is of the pool of class 2 and there; 8 is there and of the pool of class 7, which is of 2. */
+    /** In the house 3 alone is of class 2's pool and there; 8 is there and of the pool of class 7, which is of 2. */
     private static void poolArguments(int name) {
         for (int v : new int[] {0, 1, 2, 4, 5, 6, 7, 8, 9, -1, 41, 101, 201, 301, MIN, MAX}) {
             faulty("argument " + v, "8/2/" + v, x -> {
@@ -759,17 +765,16 @@ public final class EdgesSentTest extends Edges {
                 x.group(2, 0, 1);
                 x.send(7, 12, 0);
             }, x -> x.send(2, name, v));
-            if (v != 3) {
-                faulty("a CLASS without a POOL, argument " + v, "8/1/" + v, x -> x.send(1, name, v));
-            }
+            faulty("a CLASS without a POOL, argument " + v, "8/1/" + v, x -> x.send(1, name, v));
         }
+        faulty("a CLASS without a POOL, argument 3", "8/1/3", x -> x.send(1, name, 3));
         VeneerRows x = newHouse(1);
         is("argument 3", x.send(2, name, 3), 1);
         is("no fault more", x.count(4), 1);
     }
 
     private static void destroyName2() {
-        sentence("Promise 11", "if it has a ROW of NAME 2, that is SENT to it with 0");
+        sentence(11, "if it has a ROW of NAME 2, that is SENT to it with 0");
         VeneerRows x = strict();
         x.group(0, 0, 1);
         row(x, 1, 1, textOf(x, "one"));
@@ -799,7 +804,7 @@ public final class EdgesSentTest extends Edges {
     }
 
     private static void destroyStillThere() {
-        sentence("Promise 11", "then, if it is THERE still, it and its CHILDREN lie in NOTHING, and it is FREE; the "
+        sentence(11, "then, if it is THERE still, it and its CHILDREN lie in NOTHING, and it is FREE; the "
             + "answer is 1 in any case.");
         VeneerRows x = strict();
         // It is destroyed in its own end, at which name 2 is a value by then.
@@ -824,7 +829,7 @@ public final class EdgesSentTest extends Edges {
     }
 
     private static void destroyTree() {
-        sentence("Promise 11", "it and its CHILDREN lie in NOTHING, and it is FREE");
+        sentence(11, "it and its CHILDREN lie in NOTHING, and it is FREE");
         VeneerRows x = strict();
         x.group(0, 0, 1);
         objects(x, 5);
@@ -847,10 +852,31 @@ public final class EdgesSentTest extends Edges {
         is("without a PARENT and CHILDREN", x.send(1, 13, 2), 1);
         is("the others stay", childrenOf(x, 4), "7 3");
         is("no fault", x.count(4), 0);
+        VeneerRows y = strict();
+        // All other objects lie in it, the first thing of all among them.
+        objects(y, 38);
+        y.group(0, 0, 1);
+        y.send(39, 12, 0);
+        for (int k = 1; k <= 38; k++) {
+            y.move(k, 40);
+        }
+        is("38 CHILDREN", y.tree(40, 3), 38);
+        is("destroy", y.send(39, 13, 40), 1);
+        int left = 0;
+        for (int k = 1; k <= 38; k++) {
+            left += y.tree(k, 0) + y.tree(k, 2);
+        }
+        is("all lie in NOTHING", left, 0);
+        y.send(39, 12, 0);
+        is("made again", y.tree(40, 3), 0);
+        y.move(2, 1);
+        y.move(40, 1);
+        is("destroy", y.send(39, 13, 40), 1);
+        is("the other one stays", childrenOf(y, 1), "2");
     }
 
     private static void recreateWhat() {
-        sentence("Promise 11", "RECREATE: FAULT 8, NAME 2 likewise");
+        sentence(11, "RECREATE: FAULT 8, NAME 2 likewise");
         poolArguments(15);
         VeneerRows x = strict();
         x.group(0, 0, 1);
@@ -863,7 +889,7 @@ public final class EdgesSentTest extends Edges {
     }
 
     private static void recreateStillThere() {
-        sentence("Promise 11", "if it is THERE still: ROWS as if it came now");
+        sentence(11, "if it is THERE still: ROWS as if it came now");
         VeneerRows x = strict();
         // Name 2 destroys it (once: then it is a value): name 1 is not sent to it.
         int end = routineOf(x, a(0, 0), a(5, 2, 0), a(0, 1), a(6, 13, 2));
@@ -871,16 +897,17 @@ public final class EdgesSentTest extends Edges {
         row(x, 1, 1, textOf(x, "one"));
         row(x, 1, 2, end);
         x.send(1, 12, 0);
+        row(x, 1, 5, 50, 51);
         x.clear();
         is("it is not", x.send(1, 15, 2), 1);
         is("it is not", x.meta(2), 0);
         is("NAME 1 is not SENT", x.count(5), 0);
-        is("nor are there ROWS as if it came: its NAME 2 is 0, and of one", x.value(2, 2, 2, 9), OUTSIDE);
+        is("nor has it the ROW that came to its CLASS since", x.value(2, 5, 1, 9), OUTSIDE);
         is("no fault", x.count(4), 0);
     }
 
     private static void recreateRows() {
-        sentence("Promise 11", "if it is THERE still: ROWS as if it came now, then NAME 1 with 0, if there");
+        sentence(11, "if it is THERE still: ROWS as if it came now, then NAME 1 with 0, if there");
         VeneerRows x = strict();
         x.group(0, 0, 1);
         row(x, 1, 0, 1);
@@ -903,7 +930,7 @@ public final class EdgesSentTest extends Edges {
     }
 
     private static void recreateName1() {
-        sentence("Promise 11", "then NAME 1 with 0, if there; 1 in any case.");
+        sentence(11, "then NAME 1 with 0, if there; 1 in any case.");
         VeneerRows x = strict();
         x.group(0, 0, 1);
         row(x, 1, 5, 7);
@@ -935,7 +962,7 @@ public final class EdgesSentTest extends Edges {
     }
 
     private static void remaining() {
-        sentence("Promise 11", "REMAINING: how many are FREE.");
+        sentence(11, "REMAINING: how many are FREE.");
         for (int pool = 0; pool <= 6; pool++) {
             VeneerRows x = strict();
             x.group(0, 0, pool);

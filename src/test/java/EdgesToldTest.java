@@ -17,13 +17,13 @@ public final class EdgesToldTest extends Edges {
         countActs();
         countDraft();
         nothingByAsking();
-        end();
+        end(25, 28);
     }
 
     // ---- promise 25
 
     private static void outPlaces() {
-        sentence("Promise 25", "Byte i of OUT; NONE.");
+        sentence(25, "Byte i of OUT; NONE.");
         VeneerRows x = strict();
         for (int i : new int[] {0, 1, -1, MIN, MAX}) {
             is("out(" + i + ") of none", x.out(i), NONE);
@@ -56,7 +56,7 @@ public final class EdgesToldTest extends Edges {
     }
 
     private static void outFullByName() {
-        sentence("Promise 24", "OUT has 400 bytes at most; what would be above is left out.");
+        sentence(24, "OUT has 400 bytes at most; what would be above is left out.");
         VeneerRows x = almostFull();
         is("count(5)", x.count(5), 399);
         is("out(398)", x.out(398), 'g');
@@ -84,7 +84,7 @@ public final class EdgesToldTest extends Edges {
     }
 
     private static void outFullByText() {
-        sentence("Promise 11", "OUT has 400 bytes at most; what would be above is left out.");
+        sentence(11, "OUT has 400 bytes at most; what would be above is left out.");
         VeneerRows x = strict();
         x.object(0, 0);
         x.value(1, 3, 0, textOf(x, "abcdefghijklmnopqrst"));
@@ -105,7 +105,7 @@ public final class EdgesToldTest extends Edges {
     }
 
     private static void outFullAnew() {
-        sentence("Promise 26", "OUT has 400 bytes at most");
+        sentence(26, "OUT has 400 bytes at most");
         VeneerRows x = almostFull();
         x.name(0, 0);
         is("clear() of a full one", x.clear(), 400);
@@ -119,7 +119,7 @@ public final class EdgesToldTest extends Edges {
     // ---- promise 26
 
     private static void clearAll() {
-        sentence("Promise 26", "OUT is empty: how many bytes it had.");
+        sentence(26, "OUT is empty: how many bytes it had.");
         VeneerRows x = strict();
         is("of none", x.clear(), 0);
         x.name(0, 0);
@@ -140,7 +140,7 @@ public final class EdgesToldTest extends Edges {
     // ---- promise 27
 
     private static void faultPlaces() {
-        sentence("Promise 27", "NONE: there is no such FAULT");
+        sentence(27, "NONE: there is no such FAULT");
         VeneerRows x = strict();
         for (int i : new int[] {0, 1, -1, 29, 30, MIN, MAX}) {
             is("fault(" + i + ", 0) of none", x.fault(i, 0), NONE);
@@ -157,7 +157,7 @@ public final class EdgesToldTest extends Edges {
     }
 
     private static void faultWhats() {
-        sentence("Promise 27", "what = 0 its kind, 1 the number, 2 the second one; NONE: there is no such FAULT, or what.");
+        sentence(27, "what = 0 its kind, 1 the number, 2 the second one; NONE: there is no such FAULT, or what.");
         VeneerRows x = strict();
         x.read(MIN, MAX, 0);
         is("0", x.fault(0, 0), 1);
@@ -170,7 +170,7 @@ public final class EdgesToldTest extends Edges {
     }
 
     private static void faultsFull() {
-        sentence("Promise 27", "FAULTS are told in STRICT mode, the first 30");
+        sentence(27, "FAULTS are told in STRICT mode, the first 30");
         VeneerRows x = strict();
         for (int k = 1; k <= 30; k++) {
             x.read(-k, k, 0);
@@ -190,7 +190,7 @@ public final class EdgesToldTest extends Edges {
     }
 
     private static void faultsFullElse() {
-        sentence("Promise 28", "FAULTS are told in STRICT mode, the first 30");
+        sentence(28, "FAULTS are told in STRICT mode, the first 30");
         VeneerRows x = strict();
         // Ten children, each of which has four faults: the last ones are not told, and all is done.
         int r = routineOf(x, a(4, 9, 0), a(4, 8, 0), a(9), a(10), a(4, 3, 0), a(3, 1), a(5, 3, 0));
@@ -208,8 +208,8 @@ public final class EdgesToldTest extends Edges {
     }
 
     private static void faultKinds() {
-        sentence("Promise 27", "a kind, the number, and a second one: the NAME (1 to 5, SENT, READ, WRITTEN), to what it "
-            + "was MOVED (6, 7; of PARENT, CHILD, SIBLING, LOOPS 0), the ARGUMENT (8), the ROUTINE (13), the place (12, "
+        sentence(27, "a kind, the number, and a second one: the NAME (1 to 5, SENT, READ, WRITTEN), to what it was "
+            + "MOVED (6, 7; of PARENT, CHILD, SIBLING, LOOPS 0), the ARGUMENT (8), the ROUTINE (13), the place (12, "
             + "14), else 0");
         VeneerRows x = newHouse(1);
         x.send(7, 1, 9);
@@ -237,8 +237,8 @@ public final class EdgesToldTest extends Edges {
         x.word(302, 0);
         x.setWord(300, 5, 9);
         x.byteOf(0, -4);
-        is("faults", faults(x), "1/0/0 1/7/1 2/2/1 3/5/1 4/6/3 3/5/4 1/2/3 5/5/0 5/5/4 6/7/5 6/5/7 7/5/3 6/7/0 6/1/0 "
-            + "6/4/0 6/2/0 6/4/0 8/2/5 8/2/4 13/5/203 12/301/3 12/301/-1 12/301/12 14/302/0 14/300/5 14/0/-4");
+        is("faults", faults(x), "1/0/0 1/7/1 2/2/1 3/5/1 4/6/3 3/5/4 1/2/3 5/5/0 5/5/4 6/7/5 6/5/7 7/5/3 6/7/0 "
+            + "6/1/0 6/4/0 6/2/0 6/4/0 8/2/5 8/2/4 13/5/203 12/301/3 12/301/-1 12/301/12 14/302/0 14/300/5 14/0/-4");
         VeneerRows y = strict();
         // 9 and 10 tell SELF, 11 tells n; their second one is 0.
         objects(y, 3);
@@ -259,7 +259,7 @@ public final class EdgesToldTest extends Edges {
     }
 
     private static void notStrict() {
-        sentence("Promise 27", "Without STRICT none is told; all else is the same.");
+        sentence(27, "Without STRICT none is told; all else is the same.");
         VeneerRows x = new VeneerRows(0);
         house(x);
         is("answers", "" + x.send(7, 1, 9) + x.send(2, 1, 9) + x.send(5, 1, 9) + x.sendAs(1, 6, 3, 9) + x.read(5, 0, 3)
@@ -274,7 +274,7 @@ public final class EdgesToldTest extends Edges {
     // ---- promise 28
 
     private static void countWhats() {
-        sentence("Promise 28", "NONE for others.");
+        sentence(28, "NONE for others.");
         for (int what : new int[] {-1, 8, 9, -8, 256, MIN, MAX}) {
             quiet("count(" + what + ")", NONE, x -> x.count(what));
         }
@@ -285,7 +285,7 @@ public final class EdgesToldTest extends Edges {
     }
 
     private static void countThings() {
-        sentence("Promise 28", "0 THINGS, 1 TEXTS, 2 ROUTINES, 3 ARRAYS, 4 FAULTS told, 5 bytes of OUT");
+        sentence(28, "0 THINGS, 1 TEXTS, 2 ROUTINES, 3 ARRAYS, 4 FAULTS told, 5 bytes of OUT");
         VeneerRows x = strict();
         is("a CLASS and its POOL", x.group(0, 0, 6), 1);
         is("count(0)", x.count(0), 7);
@@ -309,7 +309,7 @@ public final class EdgesToldTest extends Edges {
     }
 
     private static void countActs() {
-        sentence("Promise 28", "6 ACTS done in the latest of send(), sendAs(), loop()");
+        sentence(28, "6 ACTS done in the latest of send(), sendAs(), loop()");
         VeneerRows x = newHouse(1);
         is("none yet that did one", x.count(6), 0);
         x.value(5, 9, 0, 201);
@@ -352,7 +352,7 @@ public final class EdgesToldTest extends Edges {
     }
 
     private static void countDraft() {
-        sentence("Promise 28", "7 letters of THE DRAFT");
+        sentence(28, "7 letters of THE DRAFT");
         VeneerRows x = strict();
         for (int k = 0; k <= 20; k++) {
             is("count(7)", x.count(7), k);
@@ -366,7 +366,7 @@ public final class EdgesToldTest extends Edges {
     }
 
     private static void nothingByAsking() {
-        sentence("Promise 28", "Nothing is promised beyond the answers and state changes described above");
+        sentence(28, "Nothing is promised beyond the answers and state changes described above");
         quiet("out(0)", 't', x -> x.out(0));
         quiet("out(7)", NONE, x -> x.out(7));
         quiet("fault(30, 0)", NONE, x -> x.fault(30, 0));
