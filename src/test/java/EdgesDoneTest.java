@@ -25,6 +25,7 @@ public final class EdgesDoneTest extends Edges {
         loopOrder();
         loopEmpty();
         loopArguments();
+        loopNextAhead();
         loopBroken();
         loopBrokenLater();
         loopBrokenByEnd();
@@ -425,6 +426,33 @@ public final class EdgesDoneTest extends Edges {
         x.clear();
         is("loop", x.loop(5, routineOf(x, a(2), a(13), a(1), a(13, 3))), 2);
         is("from its first one on", said(x), "(3)The owl(6)The owl");
+    }
+
+    private static void loopNextAhead() {
+        sentence(17, "from its first one on, let n be its SIBLING; the ROUTINE is RUN");
+        // In 1 lie 5, 4, 3, 2; where each one goes itself, n is still what was its SIBLING ahead of that.
+        for (int to : new int[] {0, 1, 6}) {
+            VeneerRows x = strict();
+            objects(x, 6);
+            for (int k = 2; k <= 5; k++) {
+                x.move(k, 1);
+            }
+            is("each one goes to " + to, x.loop(1, routineOf(x, a(2), a(13), a(0, to), a(8))), 4);
+            is("each one goes to " + to, said(x), "(5)(4)(3)(2)");
+            is("each one goes to " + to, faults(x), "");
+            is("then", childrenOf(x, 1), to == 1 ? "2 3 4 5" : "");
+            is("then", childrenOf(x, 6), to == 6 ? "2 3 4 5" : "");
+        }
+        VeneerRows y = strict();
+        // 6 comes ahead of the first one: it is never an n, and does not go.
+        objects(y, 6);
+        for (int k = 2; k <= 5; k++) {
+            y.move(k, 1);
+        }
+        y.value(6, 3, 0, routineOf(y, a(0, 1), a(8)));
+        is("one comes meanwhile", y.loop(1, routineOf(y, a(2), a(13), a(0, 6), a(6, 3, 0))), 4);
+        is("one comes meanwhile", said(y), "(5)(4)(3)(2)");
+        is("then", childrenOf(y, 1), "6 5 4 3 2");
     }
 
     private static void loopBroken() {

@@ -11,6 +11,7 @@ public final class EdgesToldTest extends Edges {
         faultsFull();
         faultsFullElse();
         faultKinds();
+        faultNumbers();
         notStrict();
         countWhats();
         countThings();
@@ -256,6 +257,27 @@ public final class EdgesToldTest extends Edges {
         y.value(2, 6, 0, routineOf(y, a(2), a(2), a(2), a(2), a(2), a(2), a(2), a(2)));
         y.send(2, 3, 8);
         is("9, 11 and 10", faults(y), "9/1/0 11/3/0 10/2/0");
+    }
+
+    private static void faultNumbers() {
+        sentence(27, "the number being that to which is SENT, which is READ, MOVED, asked (8: the CLASS; 9, 10: SELF, 11: "
+            + "n).");
+        // In routines too: 3 is SELF, 5 what is sent to or asked of; 4 is free.
+        int[][] acts = {a(4, 11, 0), a(5, 11, 0), a(7, 3, 2), a(7, 9, 2), a(6, 9, 0), a(6, 5, 0), a(6, 13, 6), a(8), a(9)};
+        int[] results = {0, 0, 0, 0, 5, 2, 2, 4, 4};
+        String[] told = {"3/3/11", "3/3/11", "3/3/3", "3/3/9", "3/5/9", "2/2/5", "8/2/6", "6/3/4", "6/4/0"};
+        for (int k = 0; k < acts.length; k++) {
+            VeneerRows x = newHouse(1);
+            x.value(3, 7, 0, routineOf(x, a(0, results[k]), acts[k]));
+            x.send(3, 7, 9);
+            is("act " + acts[k][0], faults(x), "1/0/0 " + told[k]);
+        }
+        VeneerRows x = newHouse(1);
+        x.value(3, 7, 0, routineOf(x, a(0, 6), a(8)));
+        x.value(6, 7, 0, routineOf(x, a(0, 3), a(8), a(7, 3, 2)));
+        x.send(3, 7, 9);
+        x.send(6, 7, 9);
+        is("7 and 4 of SELF", faults(x), "1/0/0 7/6/3 4/6/3");
     }
 
     private static void notStrict() {

@@ -23,6 +23,7 @@ public final class FaceTest {
 
     public static void main(String[] args) throws IOException {
         face();
+        faceOfTheDocument();
         classesInside();
         words();
         due.end();
@@ -47,7 +48,8 @@ public final class FaceTest {
             }
         }
         due.is("methods", String.join(" ", open), FACE);
-        due.is("constructors", c.getDeclaredConstructors().length, 1);
+        due.is("constructors", Arrays.stream(c.getDeclaredConstructors()).map(Object::toString)
+            .collect(Collectors.joining(" ")), "public VeneerRows(int)");
         Set<String> constants = new TreeSet<>();
         for (Field f : c.getDeclaredFields()) {
             int modifiers = f.getModifiers();
@@ -58,7 +60,25 @@ public final class FaceTest {
                 ? 1 : 0, 1);
         }
         due.is("constants", String.join(" ", constants), "NONE OUTSIDE ROOM UNKNOWN");
+        due.is("NONE", VeneerRows.NONE, -1);
+        due.is("UNKNOWN", VeneerRows.UNKNOWN, -2);
+        due.is("OUTSIDE", VeneerRows.OUTSIDE, -3);
+        due.is("ROOM", VeneerRows.ROOM, -4);
         noneHidden(c, names);
+    }
+
+    /** What this test holds to be the face is the document's, name by name and type by type. */
+    private static void faceOfTheDocument() throws IOException {
+        String document = Files.readString(Path.of("../shared/DOC.md"));
+        Set<String> methods = new TreeSet<>();
+        Matcher method = Pattern.compile("public int (\\w+)\\(([^)]*)\\);").matcher(document);
+        while (method.find()) {
+            methods.add(method.group(1) + "(" + method.group(2).replaceAll(" \\w+(, |$)", "$1").replace(" ", "") + ")");
+        }
+        due.is("the document's methods", String.join(" ", methods), FACE);
+        due.is("the document's constructor", document.contains("public VeneerRows(int strict);") ? 1 : 0, 1);
+        due.is("the document's constants", document.contains(
+            "public static final int NONE = -1, UNKNOWN = -2, OUTSIDE = -3, ROOM = -4;") ? 1 : 0, 1);
     }
 
     private static void noneHidden(Class<?> c, Set<String> names) {
